@@ -1,0 +1,5 @@
+public final class ModelTests {
+    public static void main(String[] args) {
+        Due.finish();
+    }
+}
