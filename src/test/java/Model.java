@@ -33,6 +33,8 @@ final class Model {
     private Integer fuse = null;
     private int grants = 0;
     private int chain = 0;
+    private final Map<Integer, Map<Fact, Reason>> found = new HashMap<>();
+    private List<Integer> foundState = List.of();
 
     Model(int secret) {
         this.secret = secret;
@@ -196,18 +198,15 @@ final class Model {
         return all;
     }
 
-    private Reason reasonOf(Fact fact, Map<Fact, Reason> known) {
-        for (int number = 1; number <= credentials.size(); number++) {
-            if (fact.equals(saidBy(number))) {
-                return new Reason(1, number, null, null);
-            }
+    private Reason reasonOf(Fact fact, List<Fact> said, Map<Fact, Reason> known) {
+        if (said.contains(fact)) {
+            return new Reason(1, said.indexOf(fact) + 1, null, null);
         }
-        int o = fact.object;
-        for (int rule = 2; rule <= 6; rule++) {
+        for (int rule = 2; rule <= 6 && !known.isEmpty(); rule++) {
             for (int b = 0; b < 6; b++) {
-                for (int d = 0; d < 4; d++) {
-                    for (int e = 0; e < 4; e++) {
-                        Fact[] pair = premises(fact, rule, b, d, e, o);
+                for (int d = 0; d < (rule == 3 || rule == 4 ? 4 : 1); d++) {
+                    for (int e = 0; e < (rule == 4 ? 4 : 1); e++) {
+                        Fact[] pair = premises(fact, rule, b, d, e, fact.object);
                         if (pair != null && known.containsKey(pair[0]) && known.containsKey(pair[1])) {
                             return new Reason(rule, 0, pair[0], pair[1]);
                         }
@@ -251,22 +250,35 @@ final class Model {
         return null;
     }
 
-    /** All that is found, with its reason. */
+    /** All that is found, with its reason; kept as long as the credentials stay as they are. */
     private Map<Fact, Reason> findAll(int o) {
+        List<Integer> state = List.of(credentials.size(), revoked.size(), time);
+        if (!state.equals(foundState)) {
+            found.clear();
+            foundState = state;
+        }
+        return found.computeIfAbsent(o, this::findAnew);
+    }
+
+    private Map<Fact, Reason> findAnew(int o) {
+        List<Fact> said = new ArrayList<>();
+        for (int number = 1; number <= credentials.size(); number++) {
+            said.add(saidBy(number));
+        }
         Map<Fact, Reason> known = new HashMap<>();
         List<Fact> open = allFacts(o);
         boolean more = true;
         while (more) {
-            Map<Fact, Reason> found = new HashMap<>();
+            Map<Fact, Reason> fresh = new HashMap<>();
             for (Fact fact : open) {
-                Reason reason = reasonOf(fact, known);
+                Reason reason = reasonOf(fact, said, known);
                 if (reason != null) {
-                    found.put(fact, reason);
+                    fresh.put(fact, reason);
                 }
             }
-            open.removeAll(found.keySet());
-            known.putAll(found);
-            more = !found.isEmpty();
+            open.removeAll(fresh.keySet());
+            known.putAll(fresh);
+            more = !fresh.isEmpty();
         }
         return known;
     }
@@ -312,6 +324,20 @@ final class Model {
         return proof;
     }
 
+    /** The goals p, r, o of one object that are found now. */
+    List<int[]> goalsOf(int o) {
+        List<int[]> goals = new ArrayList<>();
+        Map<Fact, Reason> known = findAll(o);
+        for (int p = 0; p < 6; p++) {
+            for (int r = 0; r < 4; r++) {
+                if (open(r, o) && known.containsKey(goal(p, r, o))) {
+                    goals.add(new int[] {p, r, o});
+                }
+            }
+        }
+        return goals;
+    }
+
     int prove(int p, int r, int o) {
         if (!named(p, r, o) || !open(r, o)) {
             return -1;
@@ -339,6 +365,14 @@ final class Model {
             facts.add(fact);
         }
         return facts.isEmpty() ? null : facts.get(facts.size() - 1);
+    }
+
+    /** The same, if this step stood behind the draft. */
+    Fact provedWith(int rule, int x, int y) {
+        draft.add(new Step(rule, x, y));
+        Fact fact = proved();
+        draft.remove(draft.size() - 1);
+        return fact;
     }
 
     private Fact factOf(Step step, List<Fact> facts) {
@@ -417,6 +451,11 @@ final class Model {
 
     int owner(int o) {
         return objects.containsKey(o) ? objects.get(o)[0] : -1;
+    }
+
+    /** The issuer of a credential; -1 when there is none. */
+    int issuerOf(int number) {
+        return number < 1 || number > credentials.size() ? -1 : credentials.get(number - 1).issuer;
     }
 
     int credentials() {

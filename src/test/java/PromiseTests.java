@@ -423,6 +423,31 @@ public final class PromiseTests {
         Due.is("next d", draft(gate), "1:1,0 1:4,0 4:0,1 1:7,0 7:6,3 3:2,4");
     }
 
+    private static void proveDepthsOfLinks() {
+        ProofGate gate = new ProofGate(5);
+        give(gate, 0, TRUST, 1, CREATE, 0, 2);
+        give(gate, 1, TRUST, 2, CREATE, 0, 1);
+        give(gate, 0, TRUST, 3, CREATE, 0, 1);
+        give(gate, 3, TRUST, 2, CREATE, 0, 2);
+        give(gate, 2, IMPLY, WRITE, CREATE);
+        give(gate, 2, GRANT, 5, WRITE, 0);
+        gate.prove(5, CREATE, 0);
+        Due.is("by rule 4 the depth is 0 through 3, 1 through 1", draft(gate),
+                "1:3,0 1:4,0 4:0,1 1:6,0 7:5,3 3:2,4");
+        ProofGate second = new ProofGate(5);
+        give(second, 0, VOICE, 1);
+        give(second, 1, TRUST, 2, CREATE, 0, 3);
+        give(second, 0, TRUST, 3, CREATE, 0, 3);
+        give(second, 3, VOICE, 4);
+        give(second, 4, TRUST, 2, CREATE, 0, 2);
+        give(second, 2, GRANT, 5, READ, 0);
+        give(second, 2, IMPLY, READ, WRITE);
+        give(second, 2, IMPLY, WRITE, CREATE);
+        second.prove(5, CREATE, 0);
+        Due.is("by rule 5 the depth stays 3", draft(second),
+                "1:3,0 1:4,0 1:5,0 5:1,2 4:0,3 1:6,0 7:7,5 7:8,6 3:4,7");
+    }
+
     private static void proveEarliestRound() {
         ProofGate gate = new ProofGate(5);
         give(gate, 0, VOICE, 1);
@@ -563,6 +588,10 @@ public final class PromiseTests {
             Due.is("step " + java.util.Arrays.toString(step), gate.check(3, CREATE, 0), true);
         }
         for (int[] step : wrong) {
+            // A right proof first: nothing of it may be left for the wrong one.
+            steps(gate, base);
+            gate.step(2, 0, 2);
+            Due.is("a right step", gate.check(3, CREATE, 0), true);
             steps(gate, base);
             gate.step(step[0], step[1], step[2]);
             Due.is("step " + java.util.Arrays.toString(step), gate.check(3, CREATE, 0), false);
@@ -596,10 +625,65 @@ public final class PromiseTests {
             {4, 2, 1, 2}, {5, 4, 0, 3}, {5, 1, 4, 3}, {5, 0, 5, 3}, {5, 0, 6, 3}, {5, 0, 7, 3}, {5, 2, 4, 3},
             {5, 0, 1, 2}, {6, 0, 1, 2}, {6, 1, 1, 2}, {6, 0, 0, 2}, {6, 4, 2, 3}, {6, 1, 2, 2}, {6, 4, 0, 3}};
         for (int[] link : wrong) {
+            int[] before = links[link[3] == 2 ? 2 : 0];
+            steps(gate, base);
+            gate.step(before[0], before[1], before[2]);
+            gate.step(before[3], 9, 8);
+            Due.is("a right link", gate.check(5, CREATE, 0), true);
             steps(gate, base);
             gate.step(link[0], link[1], link[2]);
             gate.step(link[3], 9, 8);
             Due.is("link " + java.util.Arrays.toString(link), gate.check(5, CREATE, 0), false);
+        }
+    }
+
+    private static void checkLooksBackOnly() {
+        ProofGate gate = new ProofGate(5);
+        give(gate, 0, VOICE, 1);
+        give(gate, 1, GRANT, 3, CREATE, 0);
+        int[][] drafts = {{1, 2, 0, 1, 1, 0}, {1, 2, 0, 2, 1, 0}, {1, 1, 0, 1, 2, 0}, {1, 1, 0, 2, 0, 1},
+            {1, 2, 0, 1, 2, 0, 1, 1, 0}, {1, 2, 0, 2, 2, 0}, {2, 1, 2, 1, 1, 0, 1, 2, 0}};
+        for (int[] draft : drafts) {
+            steps(gate, draft);
+            Due.is("draft " + java.util.Arrays.toString(draft), gate.check(3, CREATE, 0), false);
+        }
+        steps(gate, 1, 2, 0, 1, 1, 0, 2, 1, 0);
+        Due.is("earlier steps", gate.check(3, CREATE, 0), true);
+    }
+
+    private static void checkImplyOnly() {
+        ProofGate gate = new ProofGate(5);
+        give(gate, 0, GRANT, WRITE, CREATE, 0);
+        give(gate, 0, GRANT, 5, WRITE, 0);
+        give(gate, 0, TRUST, WRITE, CREATE, 0, 0);
+        give(gate, 0, TRUST, 1, WRITE, 0, 0);
+        give(gate, 1, GRANT, 5, CREATE, 0);
+        give(gate, 0, IMPLY, WRITE, CREATE);
+        steps(gate, 1, 2, 0, 7, 6, 0);
+        Due.is("an IMPLY", gate.check(5, CREATE, 0), true);
+        steps(gate, 1, 2, 0, 7, 1, 0);
+        Due.is("a GRANT with the same numbers", gate.check(5, CREATE, 0), false);
+        steps(gate, 1, 2, 0, 7, 3, 0);
+        Due.is("a TRUST with the same numbers", gate.check(5, CREATE, 0), false);
+        steps(gate, 1, 4, 0, 7, 6, 0, 1, 5, 0, 3, 1, 2);
+        Due.is("an IMPLY says nothing of trust", gate.check(5, CREATE, 0), false);
+    }
+
+    private static void checkDepthByVoice() {
+        for (int d = 3; d >= 0; d--) {
+            ProofGate gate = new ProofGate(5);
+            give(gate, 0, VOICE, 1);
+            give(gate, 1, TRUST, 2, CREATE, 0, d);
+            give(gate, 2, TRUST, 3, CREATE, 0, 0);
+            give(gate, 3, GRANT, 5, CREATE, 0);
+            give(gate, 1, TRUST, 2, CREATE, 0, 3);
+            give(gate, 1, TRUST, 2, CREATE, 0, 0);
+            steps(gate, 1, 1, 0, 1, 5, 0, 5, 0, 1, 1, 3, 0, 4, 2, 3, 1, 4, 0, 3, 4, 5);
+            Due.is("depth 3", gate.check(5, CREATE, 0), true);
+            steps(gate, 1, 1, 0, 1, 6, 0, 5, 0, 1, 1, 3, 0, 4, 2, 3, 1, 4, 0, 3, 4, 5);
+            Due.is("depth 0", gate.check(5, CREATE, 0), false);
+            steps(gate, 1, 1, 0, 1, 2, 0, 5, 0, 1, 1, 3, 0, 4, 2, 3, 1, 4, 0, 3, 4, 5);
+            Due.is("depth " + d, gate.check(5, CREATE, 0), d > 0);
         }
     }
 
@@ -821,6 +905,7 @@ public final class PromiseTests {
         proveDepth();
         proveLeastWay();
         proveLeastDeepWay();
+        proveDepthsOfLinks();
         proveEarliestRound();
         proveSharesSteps();
         proveLongWays();
@@ -828,6 +913,9 @@ public final class PromiseTests {
         checkRevoked();
         checkOneRule();
         checkLinkRules();
+        checkLooksBackOnly();
+        checkImplyOnly();
+        checkDepthByVoice();
         checkOfOwner();
         requestEffects();
         requestOwnTo();
