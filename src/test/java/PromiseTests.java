@@ -642,7 +642,9 @@ public final class PromiseTests {
         give(gate, 0, VOICE, 1);
         give(gate, 1, GRANT, 3, CREATE, 0);
         int[][] drafts = {{1, 2, 0, 1, 1, 0}, {1, 2, 0, 2, 1, 0}, {1, 1, 0, 1, 2, 0}, {1, 1, 0, 2, 0, 1},
-            {1, 2, 0, 1, 2, 0, 1, 1, 0}, {1, 2, 0, 2, 2, 0}, {2, 1, 2, 1, 1, 0, 1, 2, 0}};
+            {1, 2, 0, 1, 2, 0, 1, 1, 0}, {1, 2, 0, 2, 2, 0}, {2, 1, 2, 1, 1, 0, 1, 2, 0},
+            {1, 2, 0, 1, 1, 0}, {1, 2, 0, 2, 1, 0, 1, 1, 0, 2, 2, 0},
+            {1, 1, 0, 1, 2, 0}, {1, 1, 0, 2, 0, 1, 1, 2, 0, 2, 0, 2}};
         for (int[] draft : drafts) {
             steps(gate, draft);
             Due.is("draft " + java.util.Arrays.toString(draft), gate.check(3, CREATE, 0), false);
