@@ -311,6 +311,19 @@ public final class PromiseTests {
         Due.is("the root alone grants CREATE", gate.prove(5, CREATE, 0), -2);
     }
 
+    private static void proveByNoOther() {
+        for (int b = 1; b < 6; b++) {
+            for (int x = 0; x < 6; x++) {
+                ProofGate gate = gateWithObject(0, 1, 77);
+                give(gate, 0, VOICE, b % 5 + 1);
+                give(gate, b, GRANT, x, READ, 1);
+                Due.is("another one speaks for the owner", gate.prove(x, READ, 1), -2);
+                give(gate, 0, VOICE, b);
+                Due.is("this one does", gate.prove(x, READ, 1), 3);
+            }
+        }
+    }
+
     private static void proveByEachRule() {
         ProofGate gate = new ProofGate(5);
         give(gate, 0, VOICE, 1);
@@ -902,6 +915,7 @@ public final class PromiseTests {
         step();
         proveNames();
         proveByOwner();
+        proveByNoOther();
         proveByEachRule();
         proveByLinks();
         proveDepth();
