@@ -43,6 +43,10 @@ final class Due {
         is(what, outcome(call), "throws." + due.getSimpleName());
     }
 
+    static int wrong() {
+        return wrong;
+    }
+
     static boolean allWell() {
         return wrong == 0;
     }

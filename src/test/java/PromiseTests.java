@@ -1,137 +1,139 @@
-import java.util.NoSuchElementException;
+import java.util.Arrays;
 
-/** Each promise of the document: ordinary inputs, the edges that it names, wrong inputs. */
-public final class PromiseTests {
-    private static final int GRANT = 0;
-    private static final int VOICE = 1;
-    private static final int TRUST = 2;
-    private static final int IMPLY = 3;
-    private static final int READ = 0;
-    private static final int WRITE = 1;
-    private static final int OWN = 2;
-    private static final int CREATE = 3;
-    private static final int MIN = Integer.MIN_VALUE;
-    private static final int MAX = Integer.MAX_VALUE;
-    private static final Class<IllegalArgumentException> IAE = IllegalArgumentException.class;
-    private static final Class<NoSuchElementException> NSE = NoSuchElementException.class;
-    private static final Class<UnsupportedOperationException> UOE = UnsupportedOperationException.class;
-    private static final Class<IllegalStateException> ISE = IllegalStateException.class;
-
+/** The sentences of the promises, each with a test of its own. */
+public final class PromiseTests extends Gates {
     private PromiseTests() {
     }
 
-    /** Submits with the right seal, for the times 0 to 99. */
-    private static int give(ProofGate gate, int issuer, int kind, int... numbers) {
-        return giveFor(gate, 0, 99, issuer, kind, numbers);
+    public static void main(String[] args) {
+        Sentences.runAll(PromiseTests.class);
     }
 
-    private static int giveFor(ProofGate gate, int first, int last, int issuer, int kind, int... numbers) {
-        int[] n = java.util.Arrays.copyOf(numbers, 4);
-        gate.set(n[0], n[1], n[2], n[3]);
-        return gate.submit(issuer, kind, first, last, gate.seal(issuer, kind, n[0], n[1], n[2], n[3], first, last));
-    }
-
-    /** A gate with object o there, made by p with value v, and one credential and one grant so far. */
-    private static ProofGate gateWithObject(int p, int o, int v) {
-        ProofGate gate = new ProofGate(5);
-        give(gate, 0, GRANT, p, CREATE, o);
-        gate.request(p, CREATE, o, v, false);
-        return gate;
-    }
-
-    private static String draft(ProofGate gate) {
-        StringBuilder text = new StringBuilder();
-        for (int k = 0; k < gate.steps(); k++) {
-            text.append(k == 0 ? "" : " ").append(gate.stepAt(k, 0)).append(':')
-                    .append(gate.stepAt(k, 1)).append(',').append(gate.stepAt(k, 2));
-        }
-        return text.toString();
-    }
-
-    private static void steps(ProofGate gate, int... rulesXsYs) {
-        gate.clear();
-        for (int i = 0; i < rulesXsYs.length; i += 3) {
-            gate.step(rulesXsYs[i], rulesXsYs[i + 1], rulesXsYs[i + 2]);
-        }
-    }
-
-    private static void newObject() {
+    @Sentence(of = "Promise 1", words = "No objects")
+    static void newHasNoObjects() {
         ProofGate gate = new ProofGate(MIN);
-        for (int o = -1; o <= 6; o++) {
-            Due.is("new owner", gate.owner(o), -1);
-        }
-        Due.is("new credentials", gate.credentials(), 0);
-        Due.is("new valid", gate.valid(1), false);
-        Due.is("new steps", gate.steps(), 0);
-        Due.is("new grants", gate.grants(), 0);
-        Due.is("new chain", gate.chain(), 0);
-        Due.is("new time", gate.pass(1), 1);
-        for (int i = 1; i <= 24; i++) {
-            Due.is("no fuse is lit", give(gate, 0, VOICE, 0), i);
+        for (int o = 0; o <= 5; o++) {
+            int object = o;
+            Due.is("owner", gate.owner(o), -1);
+            Due.is("prove READ", gate.prove(0, READ, o), -1);
+            Due.throwing("read", NSE, () -> gate.request(0, READ, object, 0, false));
         }
     }
 
-    private static void newObjectSetNumbers() {
-        ProofGate gate = new ProofGate(5);
-        int seal = gate.seal(0, GRANT, 0, 0, 0, 0, 0, 9);
-        Due.is("the four numbers are 0 at first", gate.submit(0, GRANT, 0, 9, seal), 1);
+    @Sentence(of = "Promise 1", words = "no credentials")
+    static void newHasNoCredentials() {
+        ProofGate gate = new ProofGate(MAX);
+        Due.is("credentials", gate.credentials(), 0);
+        for (int number = 0; number <= 24; number++) {
+            Due.is("valid", gate.valid(number), false);
+        }
+        Due.throwing("revoke", NSE, () -> bit(gate.revoke(0, 1)));
+        Due.is("prove CREATE", gate.prove(0, CREATE, 0), -2);
     }
 
-    private static void seal() {
-        ProofGate gate = new ProofGate(5);
-        Due.is("seal of GRANT", gate.seal(0, GRANT, 2, 3, 1, 0, 0, 9), 1316120149);
-        Due.is("GRANT has no fourth", gate.seal(0, GRANT, 2, 3, 1, 77, 0, 9), 1316120149);
-        Due.is("seal of another issuer", gate.seal(2, GRANT, 4, 0, 1, 0, 1, 3), -1964748590);
-        Due.is("VOICE has one", gate.seal(1, VOICE, 2, 9, 9, 9, 0, 0), 1234113075);
-        Due.is("VOICE", gate.seal(1, VOICE, 2, 0, 0, 0, 0, 0), 1234113075);
-        Due.is("TRUST has four", gate.seal(0, TRUST, 1, 1, 0, 2, 0, 99), 2090122639);
-        Due.is("IMPLY has two", gate.seal(0, IMPLY, 1, 3, 8, 8, 0, 99), 249473564);
-        int[][] odd = {{0, 4, 1, 2, 3, 4, 0, 9}, {0, -1, 1, 2, 3, 4, 0, 9}, {9, 0, 7, 8, 9, 0, -3, -4},
-            {MIN, MAX, MIN, MAX, MIN, MAX, MIN, MAX}, {-1, 3, -1, -1, 0, 0, -1, -1}};
-        for (int[] n : odd) {
-            for (int secret : new int[] {0, 5, -1, MIN, MAX}) {
-                Due.is("seal of " + java.util.Arrays.toString(n),
-                        new ProofGate(secret).seal(n[0], n[1], n[2], n[3], n[4], n[5], n[6], n[7]),
-                        Model.seal(secret, n));
+    @Sentence(of = "Promise 1", words = "time 0")
+    static void newHasTime0() {
+        ProofGate gate = new ProofGate(0);
+        giveFor(gate, 0, 0, 1, VOICE, 2);
+        Due.is("valid at 0 alone", gate.valid(1), true);
+        Due.is("a second gate does not share it", new ProofGate(0).pass(7) + gate.pass(3), 10);
+    }
+
+    @Sentence(of = "Promise 1", words = "an empty draft")
+    static void newHasEmptyDraft() {
+        ProofGate gate = new ProofGate(-1);
+        Due.is("steps", gate.steps(), 0);
+        Due.is("stepAt", gate.stepAt(0, 0), -1);
+        Due.is("clear", gate.clear(), 0);
+        Due.is("the first step", gate.step(1, 1, 1), 0);
+    }
+
+    @Sentence(of = "Promise 1", words = "no fuse.")
+    static void newHasNoFuse() {
+        ProofGate gate = withReadable();
+        for (int i = 0; i < 60; i++) {
+            Due.is("record " + i, gate.request(2, READ, 1, 0, false), 77);
+        }
+    }
+
+    @Sentence(of = "Promise 2", words = "The seal of a credential with these numbers.")
+    static void sealFitsSubmit() {
+        int[][] credentials = {{5, GRANT, 5, CREATE, 5, 0}, {5, VOICE, 5, 0, 0, 0}, {5, TRUST, 5, CREATE, 5, 3},
+            {5, IMPLY, CREATE, CREATE, 0, 0}, {0, GRANT, 0, 0, 0, 0}};
+        for (int[] n : credentials) {
+            for (int time : new int[] {MIN, -1, 0, 9, MAX}) {
+                ProofGate gate = new ProofGate(MAX);
+                int seal = gate.seal(n[0], n[1], n[2], n[3], n[4], n[5], time, -time);
+                gate.set(n[2], n[3], n[4], n[5]);
+                Due.is("submit " + Arrays.toString(n), gate.submit(n[0], n[1], time, -time, seal), 1);
             }
         }
-        for (int i = 2; i <= 5; i++) {
-            int[] n = {0, 4, 0, 0, 0, 0, 0, 0};
-            int[] m = n.clone();
-            m[i] = 1;
-            Due.is("another kind has all four", Model.seal(5, n) != gate.seal(m[0], m[1], m[2], m[3], m[4], m[5], 0, 0),
-                    true);
-        }
-        Due.is("to ask changes nothing", gate.credentials(), 0);
     }
 
-    private static void submit() {
+    @Sentence(of = "Promise 2", words = "(Anyone may ask: the script knows when it forges.)")
+    static void sealOfAnything() {
         ProofGate gate = new ProofGate(5);
-        gate.set(2, 3, 1, -7);
-        Due.is("submit", gate.submit(0, GRANT, 0, 9, 1316120149), 1);
-        Due.is("the same once more", gate.submit(0, GRANT, 0, 9, 1316120149), 2);
-        Due.is("credentials", gate.credentials(), 2);
-        Due.throwing("wrong seal", UOE, () -> gate.submit(0, GRANT, 0, 9, 1316120148));
-        Due.throwing("seal for another time", UOE, () -> gate.submit(0, GRANT, 0, 8, 1316120149));
-        Due.throwing("seal of another issuer", UOE, () -> gate.submit(1, GRANT, 0, 9, 1316120149));
-        for (int issuer : new int[] {-1, 6, MIN, MAX}) {
-            Due.throwing("issuer " + issuer, IAE,
-                    () -> gate.submit(issuer, GRANT, 0, 9, gate.seal(issuer, GRANT, 2, 3, 1, 0, 0, 9)));
+        gate.set(2, 3, 1, 0);
+        gate.step(1, 1, 0);
+        gate.fuse(0);
+        for (int n : new int[] {MIN, -1, 0, 6, MAX}) {
+            Due.is("seal of " + n, gate.seal(n, n, n, n, n, n, n, n), Model.seal(5, new int[] {n, n, n, n, n, n, n, n}));
         }
-        for (int kind : new int[] {-1, 4, MIN, MAX}) {
-            Due.throwing("kind " + kind, IAE,
-                    () -> gate.submit(0, kind, 0, 9, gate.seal(0, kind, 2, 3, 1, -7, 0, 9)));
-        }
-        Due.is("nothing else was taken", gate.credentials(), 2);
-        Due.is("first may be behind last", giveFor(gate, 9, 0, 0, VOICE, 1), 3);
-        Due.is("any times", giveFor(gate, MIN, MAX, 0, VOICE, 1), 4);
-        Due.is("valid over all times", gate.valid(4), true);
-        Due.is("never valid", gate.valid(3), false);
+        Due.is("to ask takes nothing", gate.credentials(), 0);
+        Due.is("the draft stays", gate.steps(), 1);
+        gate.fuse(1);
+        Due.is("the numbers that were set stay", gate.submit(0, GRANT, 0, 9, 1316120149), 1);
     }
 
-    private static void submitRanges() {
+    @Sentence(of = "Promise 3", words = "is submitted with a seal: its number.")
+    static void submitAnswersNumber() {
+        ProofGate gate = new ProofGate(5);
+        gate.set(2, 3, 1, 0);
+        for (int number = 1; number <= 24; number++) {
+            Due.is("the same again", gate.submit(0, GRANT, 0, 9, 1316120149), number);
+            Due.is("credentials", gate.credentials(), number);
+        }
+    }
+
+    @Sentence(of = "Promise 3", words = "for times first to last")
+    static void submitForAnyTimes() {
+        int[][] times = {{0, 0}, {1, 1}, {9, 0}, {MIN, MAX}, {MAX, MIN}, {-1, -1}, {MAX, MAX}};
+        ProofGate gate = new ProofGate(5);
+        for (int i = 0; i < times.length; i++) {
+            Due.is("times " + Arrays.toString(times[i]), giveFor(gate, times[i][0], times[i][1], 0, VOICE, 1), i + 1);
+            Due.is("valid now", gate.valid(i + 1), times[i][0] <= 0 && times[i][1] >= 0);
+        }
+    }
+
+    @Sentence(of = "Promise 3", words = "IllegalArgumentException when there is no such issuer")
+    static void submitOfNoIssuer() {
+        ProofGate gate = new ProofGate(5);
+        for (int issuer : NOT_0_TO_5) {
+            Due.throwing("issuer " + issuer, IAE, () -> give(gate, issuer, GRANT, 2, 3, 1));
+            Due.throwing("with a wrong seal", IAE, () -> gate.submit(issuer, GRANT, 0, 99, 1));
+        }
+        Due.is("nothing was taken", gate.credentials(), 0);
+        Due.is("issuer 0", give(gate, 0, GRANT, 2, 3, 1), 1);
+        Due.is("issuer 5", give(gate, 5, GRANT, 2, 3, 1), 2);
+    }
+
+    @Sentence(of = "Promise 3", words = "or kind")
+    static void submitOfNoKind() {
+        ProofGate gate = new ProofGate(5);
+        for (int kind : NOT_0_TO_3) {
+            Due.throwing("kind " + kind, IAE, () -> give(gate, 0, kind, 0, 0, 0, 0));
+            Due.throwing("with a wrong seal", IAE, () -> gate.submit(0, kind, 0, 99, 1));
+        }
+        Due.is("nothing was taken", gate.credentials(), 0);
+        for (int kind = GRANT; kind <= IMPLY; kind++) {
+            Due.is("kind " + kind, give(gate, 0, kind, 0, 0, 0, 0), kind + 1);
+        }
+    }
+
+    @Sentence(of = "Promise 3", words = "or a number that it has is not in its range")
+    static void submitOutOfRange() {
         int[][] limits = {{6, 4, 6, 0}, {6, 0, 0, 0}, {6, 4, 6, 4}, {4, 4, 0, 0}};
-        for (int kind = 0; kind < 4; kind++) {
+        for (int kind = GRANT; kind <= IMPLY; kind++) {
             for (int i = 0; i < 4; i++) {
                 for (int number : new int[] {MIN, -1, 0, limits[kind][i] - 1, limits[kind][i], 6, MAX}) {
                     boolean fits = limits[kind][i] == 0 || number >= 0 && number < limits[kind][i];
@@ -147,174 +149,420 @@ public final class PromiseTests {
         }
     }
 
-    private static void submitWhenFull() {
+    @Sentence(of = "Promise 3", words = "UnsupportedOperationException when the seal is not right")
+    static void submitWithWrongSeal() {
         ProofGate gate = new ProofGate(5);
-        for (int i = 1; i <= 24; i++) {
-            Due.is("submit " + i, give(gate, 1, VOICE, 2), i);
+        gate.set(2, 3, 1, 0);
+        int right = 1316120149;
+        for (int seal : new int[] {right - 1, right + 1, -right, ~right, right ^ MIN, 0, MIN, MAX,
+            gate.seal(1, GRANT, 2, 3, 1, 0, 0, 9), gate.seal(0, TRUST, 2, 3, 1, 0, 0, 9),
+            gate.seal(0, GRANT, 1, 3, 1, 0, 0, 9), gate.seal(0, GRANT, 2, 3, 1, 0, 1, 9),
+            gate.seal(0, GRANT, 2, 3, 1, 0, 0, 8), new ProofGate(6).seal(0, GRANT, 2, 3, 1, 0, 0, 9)}) {
+            Due.throwing("seal " + seal, UOE, () -> gate.submit(0, GRANT, 0, 9, seal));
         }
-        gate.step(1, 1, 1);
-        gate.fuse(0);
+        Due.is("nothing was taken", gate.credentials(), 0);
+        Due.is("the right seal", gate.submit(0, GRANT, 0, 9, right), 1);
+    }
+
+    @Sentence(of = "Promise 3", words = "IllegalStateException when there are 24")
+    static void submitWhenFull() {
+        ProofGate gate = new ProofGate(5);
+        giveMany(gate, 23);
+        Due.is("the 24th", give(gate, 1, VOICE, 2), 24);
         Due.throwing("the 25th", ISE, () -> give(gate, 1, VOICE, 2));
-        Due.is("that was no crash", gate.steps(), 1);
+        Due.is("credentials", gate.credentials(), 24);
+        Due.is("no 25th", gate.valid(25), false);
+        gate.revoke(1, 3);
+        Due.throwing("a revoked one makes no room", ISE, () -> give(gate, 1, VOICE, 2));
+        gate.pass(100);
+        Due.throwing("nor do those of the past", ISE, () -> give(gate, 1, VOICE, 2));
         Due.throwing("a wrong seal comes before", UOE, () -> gate.submit(1, VOICE, 0, 99, 1));
         Due.throwing("a wrong kind comes before", IAE, () -> gate.submit(1, 4, 0, 99, 1));
     }
 
-    private static void submitFullKeepsFuse() {
+    @Sentence(of = "Promise 3", words = "or the machine crashes.")
+    static void submitCrashes() {
         ProofGate gate = new ProofGate(5);
-        for (int i = 1; i <= 24; i++) {
-            give(gate, 1, VOICE, 2);
+        gate.fuse(0);
+        Due.throwing("a wrong kind comes before", IAE, () -> give(gate, 1, 4, 2));
+        Due.throwing("a wrong seal comes before", UOE, () -> gate.submit(1, VOICE, 0, 99, 1));
+        Due.throwing("crash", ISE, () -> give(gate, 1, VOICE, 2));
+        Due.is("it is not taken", gate.credentials(), 0);
+        Due.is("after the crash", give(gate, 1, VOICE, 2), 1);
+    }
+
+    @Sentence(of = "Promise 3", words = "(Numbers that it has not are taken as 0.)")
+    static void submitTakesOthersAs0() {
+        int[][] has = {{1, 1, 1, 0}, {1, 0, 0, 0}, {1, 1, 1, 1}, {1, 1, 0, 0}};
+        for (int odd : new int[] {MIN, -1, 1, 6, MAX}) {
+            for (int kind = GRANT; kind <= IMPLY; kind++) {
+                int[] n = has[kind];
+                ProofGate gate = new ProofGate(5);
+                gate.set(n[0] == 1 ? 2 : odd, n[1] == 1 ? 3 : odd, n[2] == 1 ? 1 : odd, n[3] == 1 ? 3 : odd);
+                int seal = gate.seal(0, kind, 2 * n[0], 3 * n[1], n[2], 3 * n[3], 0, 9);
+                Due.is("kind " + kind + ", others " + odd, gate.submit(0, kind, 0, 9, seal), 1);
+            }
         }
-        gate.fuse(0);
-        Due.throwing("the 25th", ISE, () -> give(gate, 1, VOICE, 2));
-        Due.throwing("the fuse is still lit", ISE, () -> gate.revoke(1, 3) ? 1 : 0);
-        Due.is("and then it is out", gate.revoke(1, 3), true);
-        Due.throwing("a revoked one makes no room", ISE, () -> give(gate, 1, VOICE, 2));
+        ProofGate gate = new ProofGate(5);
+        give(gate, ROOT, VOICE, 2, CREATE, 1, 3);
+        give(gate, 2, GRANT, 3, CREATE, 0, 3);
+        Due.is("what they say is the same", gate.prove(3, CREATE, 0), 3);
     }
 
-    private static void submitCrash() {
+    @Sentence(of = "Promise 4", words = "Sets the four numbers for submit")
+    static void setReplacesAll() {
+        for (int i = 0; i < 4; i++) {
+            int[] n = {2, 2, 2, 2};
+            ProofGate gate = new ProofGate(5);
+            gate.set(n[0], n[1], n[2], n[3]);
+            n[i] = 1;
+            gate.set(n[0], n[1], n[2], n[3]);
+            int seal = gate.seal(0, TRUST, n[0], n[1], n[2], n[3], 0, 9);
+            Due.is("number " + i, gate.submit(0, TRUST, 0, 9, seal), 1);
+            Due.throwing("a refusal", UOE, () -> gate.submit(0, TRUST, 0, 9, seal + 1));
+            Due.throwing("another refusal", IAE, () -> gate.submit(6, TRUST, 0, 9, seal));
+            Due.is("submit leaves them, taken or refused", gate.submit(0, TRUST, 0, 9, seal), 2);
+        }
         ProofGate gate = new ProofGate(5);
-        gate.step(1, 1, 1);
-        gate.set(2, 3, 1, 0);
-        gate.fuse(0);
-        Due.throwing("wrong seal writes no record", UOE, () -> gate.submit(0, GRANT, 0, 9, 1));
-        Due.throwing("wrong kind writes no record", IAE, () -> gate.submit(0, 5, 0, 9, 1));
-        Due.is("no crash so far", gate.steps(), 1);
-        Due.throwing("crash", ISE, () -> gate.submit(0, GRANT, 0, 9, 1316120149));
-        Due.is("it was not taken", gate.credentials(), 0);
-        Due.is("the draft is empty", gate.steps(), 0);
-        Due.is("the set numbers are there, the fuse is out", gate.submit(0, GRANT, 0, 9, 1316120149), 1);
-    }
-
-    private static void set() {
-        ProofGate gate = new ProofGate(5);
-        gate.set(5, 5, 5, 5);
-        gate.set(1, 1, 0, 2);
-        Due.is("the last numbers count", gate.submit(0, TRUST, 0, 99, 2090122639), 1);
-        Due.is("submit leaves them", gate.submit(0, TRUST, 0, 99, 2090122639), 2);
         gate.set(MIN, MAX, -1, 99);
         Due.throwing("any may be set, not all fit", IAE,
                 () -> gate.submit(0, TRUST, 0, 9, gate.seal(0, TRUST, MIN, MAX, -1, 99, 0, 9)));
     }
 
-    private static void revoke() {
+    @Sentence(of = "Promise 4", words = "Sets the four numbers for submit")
+    static void setLeavesCredentials() {
+        ProofGate gate = withGrant();
+        gate.set(4, READ, 1, 3);
+        Due.is("what was taken stays", gate.prove(5, CREATE, 0), 1);
+        Due.is("and no other follows", gate.prove(4, CREATE, 0), -2);
+    }
+
+    @Sentence(of = "Promise 4", words = "0 at first")
+    static void numbersAtFirst() {
+        for (int kind = GRANT; kind <= IMPLY; kind++) {
+            ProofGate gate = new ProofGate(5);
+            Due.is("kind " + kind, gate.submit(0, kind, 0, 9, gate.seal(0, kind, 0, 0, 0, 0, 0, 9)), 1);
+        }
+    }
+
+    @Sentence(of = "Promise 4", words = "a crash leaves them")
+    static void crashLeavesNumbers() {
         ProofGate gate = new ProofGate(5);
-        give(gate, 3, VOICE, 1);
-        giveFor(gate, 5, 6, 4, VOICE, 1);
-        for (int number : new int[] {0, 3, -1, MIN, MAX}) {
-            Due.throwing("revoke " + number, NSE, () -> gate.revoke(3, number) ? 1 : 0);
-        }
-        for (int p : new int[] {0, 4, -1, 6}) {
-            Due.throwing("revoke by " + p, UOE, () -> gate.revoke(p, 1) ? 1 : 0);
-        }
-        Due.is("still valid", gate.valid(1), true);
-        Due.is("revoke", gate.revoke(3, 1), true);
-        Due.is("no longer valid", gate.valid(1), false);
-        Due.is("revoke again", gate.revoke(3, 1), false);
-        Due.throwing("another one can't, even now", UOE, () -> gate.revoke(4, 1) ? 1 : 0);
-        Due.is("one that is not valid yet", gate.revoke(4, 2), true);
+        gate.set(1, 1, 0, 2);
+        gate.fuse(0);
+        Due.throwing("crash", ISE, () -> gate.submit(0, TRUST, 0, 99, 2090122639));
+        Due.is("the same numbers", gate.submit(0, TRUST, 0, 99, 2090122639), 1);
+        gate.fuse(0);
+        Due.throwing("crash of another call", ISE, () -> bit(gate.revoke(0, 1)));
+        Due.is("the same numbers", gate.submit(0, TRUST, 0, 99, 2090122639), 2);
+    }
+
+    @Sentence(of = "Promise 5", words = "The issuer revokes its credential: true")
+    static void revokes() {
+        ProofGate gate = new ProofGate(5);
+        give(gate, 0, VOICE, 1);
+        giveFor(gate, 5, 6, 5, VOICE, 1);
+        giveFor(gate, -6, -5, 3, VOICE, 1);
+        give(gate, 0, VOICE, 1);
+        Due.is("one that is valid", gate.revoke(0, 1), true);
+        Due.is("it is not valid now", gate.valid(1), false);
+        Due.is("one that is not valid yet", gate.revoke(5, 2), true);
+        Due.is("one of the past", gate.revoke(3, 3), true);
+        Due.is("no other is revoked", gate.valid(4), true);
         gate.pass(5);
         Due.is("it never gets valid", gate.valid(2), false);
-        Due.is("both are still there", gate.credentials(), 2);
+        Due.is("they are still there", gate.credentials(), 4);
     }
 
-    private static void revokeCrash() {
+    @Sentence(of = "Promise 5", words = "false when it is revoked already.")
+    static void revokesOnce() {
+        ProofGate gate = new ProofGate(5);
+        giveMany(gate, 2);
+        gate.revoke(1, 1);
+        Due.is("again", gate.revoke(1, 1), false);
+        gate.fuse(0);
+        Due.is("without a record", gate.revoke(1, 1), false);
+        Due.throwing("the fuse is lit yet", ISE, () -> bit(gate.revoke(1, 2)));
+        Due.throwing("not its issuer comes before", UOE, () -> bit(gate.revoke(2, 1)));
+        Due.is("it stays revoked", gate.valid(1), false);
+    }
+
+    @Sentence(of = "Promise 5", words = "NoSuchElementException when there is no such credential")
+    static void revokeOfNone() {
+        ProofGate gate = new ProofGate(5);
+        Due.throwing("of none", NSE, () -> bit(gate.revoke(1, 1)));
+        giveMany(gate, 2);
+        for (int number : new int[] {MIN, -1, 0, 3, 24, 25, MAX}) {
+            Due.throwing("revoke " + number, NSE, () -> bit(gate.revoke(1, number)));
+            Due.throwing("by no principal", NSE, () -> bit(gate.revoke(6, number)));
+        }
+        giveMany(gate, 22);
+        Due.throwing("the 25th of 24", NSE, () -> bit(gate.revoke(1, 25)));
+        Due.is("the 24th", gate.revoke(1, 24), true);
+    }
+
+    @Sentence(of = "Promise 5", words = "UnsupportedOperationException when p is not its issuer")
+    static void revokeOfAnother() {
         ProofGate gate = new ProofGate(5);
         give(gate, 3, VOICE, 1);
-        give(gate, 3, VOICE, 2);
-        gate.revoke(3, 2);
-        gate.step(1, 1, 0);
+        give(gate, 3, VOICE, 0);
+        for (int p : new int[] {MIN, -1, 0, 1, 2, 4, 5, 6, MAX}) {
+            Due.throwing("revoke by " + p, UOE, () -> bit(gate.revoke(p, 1)));
+        }
+        Due.is("it is valid yet", gate.valid(1), true);
         gate.fuse(0);
-        Due.is("what is revoked writes no record", gate.revoke(3, 2), false);
-        Due.throwing("nor does a wrong p", UOE, () -> gate.revoke(1, 1) ? 1 : 0);
-        Due.throwing("nor a wrong number", NSE, () -> gate.revoke(3, 9) ? 1 : 0);
-        Due.is("no crash so far", gate.steps(), 1);
-        Due.throwing("crash", ISE, () -> gate.revoke(3, 1) ? 1 : 0);
-        Due.is("not revoked", gate.valid(1), true);
-        Due.is("the draft is empty", gate.steps(), 0);
-        Due.is("the other stays revoked", gate.valid(2), false);
-        Due.is("now it goes", gate.revoke(3, 1), true);
+        Due.throwing("before a crash", UOE, () -> bit(gate.revoke(1, 1)));
     }
 
-    private static void pass() {
+    @Sentence(of = "Promise 5", words = "IllegalStateException when the machine crashes.")
+    static void revokeCrashes() {
         ProofGate gate = new ProofGate(5);
-        for (int n : new int[] {0, -1, 101, MIN, MAX}) {
+        giveMany(gate, 1);
+        gate.fuse(0);
+        Due.throwing("crash", ISE, () -> bit(gate.revoke(1, 1)));
+        Due.is("it is valid yet", gate.valid(1), true);
+        Due.is("now it goes", gate.revoke(1, 1), true);
+    }
+
+    @Sentence(of = "Promise 6", words = "Time goes on by n (1 .. 100): the time")
+    static void passes() {
+        ProofGate gate = new ProofGate(5);
+        int time = 0;
+        for (int n = 1; n <= 100; n++) {
+            time += n;
+            Due.is("pass " + n, gate.pass(n), time);
+        }
+    }
+
+    @Sentence(of = "Promise 6", words = "Time goes on by n (1 .. 100)")
+    static void passesAsFarAsItCan() {
+        ProofGate gate = new ProofGate(5);
+        giveFor(gate, 50800, 50800, 1, VOICE, 2);
+        for (int i = 1; i <= 508; i++) {
+            Due.is("pass 100", gate.pass(100), 100 * i);
+        }
+        Due.is("the 512th call", gate.valid(1), true);
+    }
+
+    @Sentence(of = "Promise 6", words = "-1 when n is not so.")
+    static void passesNot() {
+        ProofGate gate = new ProofGate(5);
+        giveFor(gate, 0, 0, 1, VOICE, 2);
+        for (int n : new int[] {MIN, -100, -1, 0, 101, MAX}) {
             Due.is("pass " + n, gate.pass(n), -1);
+            Due.is("the time is 0 yet", gate.valid(1), true);
         }
         Due.is("pass 1", gate.pass(1), 1);
-        Due.is("pass 100", gate.pass(100), 101);
-        Due.is("pass 0", gate.pass(0), -1);
-        Due.is("pass 7", gate.pass(7), 108);
     }
 
-    private static void step() {
+    @Sentence(of = "Promise 7", words = "A step is put behind the draft, a proof: its number")
+    static void stepAnswersNumber() {
         ProofGate gate = new ProofGate(5);
         Due.is("anything is a step", gate.step(MIN, MAX, -1), 0);
         for (int k = 1; k < 40; k++) {
             Due.is("step", gate.step(k, 2 * k, 3 * k), k);
         }
-        Due.is("the 41st", gate.step(7, 7, 7), -1);
+        Due.is("the first stays the first", gate.stepAt(0, 0), MIN);
+        Due.is("the last is the last", gate.stepAt(39, 2), 117);
+    }
+
+    @Sentence(of = "Promise 7", words = "A step is put behind the draft, a proof")
+    static void stepBehindProof() {
+        ProofGate gate = withGrant();
+        gate.prove(5, CREATE, 0);
+        Due.is("step", gate.step(7, 8, 9), 1);
+        Due.is("draft", draft(gate), "1:1,0 7:8,9");
+    }
+
+    @Sentence(of = "Promise 7", words = "-1 when there are 40.")
+    static void stepWhenFull() {
+        ProofGate gate = new ProofGate(5);
+        for (int k = 0; k < 40; k++) {
+            gate.step(1, k, 0);
+        }
+        Due.is("the 41st", gate.step(2, 2, 2), -1);
+        Due.is("the 42nd", gate.step(2, 2, 2), -1);
         Due.is("steps", gate.steps(), 40);
-        Due.is("rule", gate.stepAt(0, 0), MIN);
-        Due.is("x", gate.stepAt(0, 1), MAX);
-        Due.is("y", gate.stepAt(0, 2), -1);
-        Due.is("the 40th", gate.stepAt(39, 0) + 1000 * gate.stepAt(39, 1) + 1000000 * gate.stepAt(39, 2), 117078039);
-        for (int k : new int[] {-1, 40, MIN, MAX}) {
-            Due.is("no step " + k, gate.stepAt(k, 0), -1);
-        }
-        for (int w : new int[] {-1, 3, MIN, MAX}) {
-            Due.is("no part " + w, gate.stepAt(1, w), -1);
-        }
-        Due.is("clear", gate.clear(), 40);
-        Due.is("nothing is left", gate.steps(), 0);
-        Due.is("nor a step", gate.stepAt(0, 0), -1);
-        Due.is("clear nothing", gate.clear(), 0);
-        Due.is("first again", gate.step(1, 1, 1), 0);
-        Due.is("one", gate.steps(), 1);
-        Due.is("only the new one", gate.stepAt(1, 0), -1);
+        Due.is("no step 40", gate.stepAt(40, 0), -1);
+        Due.is("the 40th stays", gate.stepAt(39, 0) + 10 * gate.stepAt(39, 1), 391);
+        gate.clear();
+        Due.is("there is room again", gate.step(1, 1, 1), 0);
+        ProofGate proved = withProofOf(40);
+        proved.prove(5, CREATE, 0);
+        Due.is("behind the prover's 40", proved.step(1, 1, 0), -1);
     }
 
-    private static void proveNames() {
-        ProofGate gate = gateWithObject(2, 1, 77);
-        give(gate, 2, GRANT, 2, READ, 1);
-        gate.step(9, 9, 9);
-        for (int bad : new int[] {-1, 6, MIN, MAX}) {
-            Due.is("no principal", gate.prove(bad, READ, 1), -1);
-            Due.is("no object", gate.prove(2, READ, bad), -1);
-            Due.is("no object to create", gate.prove(2, CREATE, bad), -1);
-            Due.is("no right", gate.prove(2, bad == 6 ? 4 : bad, 1), -1);
-            Due.is("check of no principal", gate.check(bad, READ, 1), false);
-            Due.is("check of no object", gate.check(2, CREATE, bad), false);
-            Due.is("check of no right", gate.check(2, bad == 6 ? 4 : bad, 1), false);
+    @Sentence(of = "Promise 8", words = "The draft is empty: how many steps it had.")
+    static void clears() {
+        for (int length = 0; length <= 40; length++) {
+            ProofGate gate = new ProofGate(5);
+            for (int k = 0; k < length; k++) {
+                gate.step(1, 1, 1);
+            }
+            Due.is("clear", gate.clear(), length);
+            Due.is("steps", gate.steps(), 0);
+            Due.is("no step", gate.stepAt(0, 0), -1);
+            Due.is("clear nothing", gate.clear(), 0);
+            Due.is("the first again", gate.step(1, 1, 1), 0);
         }
-        Due.is("not there", gate.prove(2, READ, 0), -1);
-        Due.is("there already", gate.prove(2, CREATE, 1), -1);
-        Due.is("not found", gate.prove(2, WRITE, 1), -2);
-        Due.is("creation not found", gate.prove(2, CREATE, 0), -2);
-        Due.is("the draft stayed", draft(gate), "9:9,9");
-        Due.is("found", gate.prove(2, READ, 1), 1);
-        Due.is("the draft is the proof", draft(gate), "1:2,0");
-        steps(gate, 1, 1, 0);
-        Due.is("what proves CREATE, when the object is there", gate.check(2, CREATE, 1), false);
     }
 
-    private static void proveByOwner() {
-        ProofGate gate = gateWithObject(2, 1, 77);
-        give(gate, 0, GRANT, 4, READ, 1);
-        Due.is("the root is not the owner", gate.prove(4, READ, 1), -2);
-        give(gate, 2, GRANT, 4, READ, 0);
-        Due.is("another object", gate.prove(4, READ, 1), -2);
-        give(gate, 2, GRANT, 3, READ, 1);
-        Due.is("another principal", gate.prove(4, READ, 1), -2);
-        Due.is("that one may", gate.prove(3, READ, 1), 1);
-        give(gate, 2, GRANT, 5, CREATE, 0);
-        Due.is("the root alone grants CREATE", gate.prove(5, CREATE, 0), -2);
+    @Sentence(of = "Promise 9", words = "How many steps the draft has.")
+    static void countsSteps() {
+        ProofGate gate = withGrant();
+        for (int k = 0; k < 40; k++) {
+            Due.is("steps", gate.steps(), k);
+            gate.step(1, 1, 1);
+        }
+        Due.is("40", gate.steps(), 40);
+        gate.step(1, 1, 1);
+        Due.is("40 at most", gate.steps(), 40);
+        gate.prove(5, CREATE, 0);
+        Due.is("those of the proof", gate.steps(), 1);
     }
 
-    private static void proveByNoOther() {
+    @Sentence(of = "Promise 10", words = "Of step k of the draft: its rule (w = 0), x (1) or y (2)")
+    static void partsOfSteps() {
+        ProofGate gate = new ProofGate(5);
+        int[][] parts = {{MIN, MAX, -1}, {7, 8, 9}, {-1, -1, -1}, {0, MIN, MAX}};
+        for (int[] part : parts) {
+            gate.step(part[0], part[1], part[2]);
+        }
+        for (int k = 0; k < parts.length; k++) {
+            for (int w = 0; w <= 2; w++) {
+                Due.is("step " + k + ", part " + w, gate.stepAt(k, w), parts[k][w]);
+            }
+        }
+    }
+
+    @Sentence(of = "Promise 10", words = "-1 when there is none")
+    static void noSuchStep() {
+        ProofGate gate = withGrant();
+        Due.is("of an empty draft", gate.stepAt(0, 0), -1);
+        steps(gate, 1, 2, 3, 4, 5, 6);
+        for (int k : new int[] {MIN, -1, 2, 39, 40, MAX}) {
+            for (int w = 0; w <= 2; w++) {
+                Due.is("no step " + k, gate.stepAt(k, w), -1);
+            }
+        }
+        gate.prove(5, CREATE, 0);
+        Due.is("one that was there before the proof", gate.stepAt(1, 0), -1);
+        gate.clear();
+        Due.is("one that was there before", gate.stepAt(0, 0), -1);
+        for (int k = 0; k < 40; k++) {
+            gate.step(1, 1, 1);
+        }
+        Due.is("the last of 40", gate.stepAt(39, 0), 1);
+        Due.is("behind 40", gate.stepAt(40, 0), -1);
+    }
+
+    @Sentence(of = "Promise 10", words = "or w is not 0 .. 2.")
+    static void noSuchPart() {
+        ProofGate gate = new ProofGate(5);
+        gate.step(7, 8, 9);
+        for (int w : new int[] {MIN, -1, 3, MAX}) {
+            Due.is("no part " + w, gate.stepAt(0, w), -1);
+            Due.is("of no step", gate.stepAt(1, w), -1);
+        }
+    }
+
+    @Sentence(of = "Promise 11", words = "The prover's proof of the goal of p for right r with object o becomes the draft: how many steps it has.")
+    static void proofBecomesDraft() {
+        ProofGate gate = withReadable();
+        give(gate, 2, VOICE, 3);
+        give(gate, 3, GRANT, 4, READ, 1);
+        for (int k = 0; k < 40; k++) {
+            gate.step(9, 9, 9);
+        }
+        Due.is("a proof of three steps", gate.prove(4, READ, 1), 3);
+        Due.is("in place of 40", draft(gate), "1:3,0 1:4,0 2:0,1");
+        Due.is("a proof of one step", gate.prove(2, READ, 1), 1);
+        Due.is("in place of three", draft(gate), "1:2,0");
+        Due.is("a proof of three again", gate.prove(4, READ, 1), 3);
+        Due.is("in place of one", draft(gate), "1:3,0 1:4,0 2:0,1");
+    }
+
+    /** The answer of prove is -1, and the draft stays. */
+    private static void provesNoGoal(ProofGate gate, int p, int r, int o) {
+        steps(gate, 1, 2, 0);
+        Due.is("prove " + p + " " + r + " " + o, gate.prove(p, r, o), -1);
+        Due.is("the draft stays", draft(gate), "1:2,0");
+    }
+
+    @Sentence(of = "Promise 11", words = "-1 when there is no such principal")
+    static void proveForNoPrincipal() {
+        ProofGate gate = withReadable();
+        for (int p : NOT_0_TO_5) {
+            provesNoGoal(gate, p, READ, 1);
+            provesNoGoal(gate, p, CREATE, 0);
+        }
+    }
+
+    @Sentence(of = "Promise 11", words = "right or object")
+    static void proveOfNoRightOrObject() {
+        ProofGate gate = withReadable();
+        for (int r : NOT_0_TO_3) {
+            provesNoGoal(gate, 2, r, 1);
+            provesNoGoal(gate, 2, r, 0);
+        }
+        for (int o : NOT_0_TO_5) {
+            provesNoGoal(gate, 2, READ, o);
+            provesNoGoal(gate, 2, CREATE, o);
+        }
+    }
+
+    @Sentence(of = "Promise 11", words = "or the object is not there (for CREATE: or it is)")
+    static void proveOfObjectNotThere() {
+        ProofGate gate = withReadable();
+        for (int r = READ; r <= OWN; r++) {
+            provesNoGoal(gate, 2, r, 0);
+        }
+        provesNoGoal(gate, 2, CREATE, 1);
+        give(gate, 2, GRANT, 2, OWN, 1);
+        gate.request(2, OWN, 1, -1, false);
+        provesNoGoal(gate, 2, READ, 1);
+        Due.is("CREATE, when it is there no more", gate.prove(2, CREATE, 1), 1);
+    }
+
+    @Sentence(of = "Promise 11", words = "-2 when the goal is not found")
+    static void proveNotFound() {
+        ProofGate gate = withReadable();
+        steps(gate, 1, 2, 0);
+        Due.is("right", gate.prove(2, WRITE, 1), -2);
+        Due.is("principal", gate.prove(3, READ, 1), -2);
+        Due.is("CREATE", gate.prove(2, CREATE, 0), -2);
+        gate.revoke(2, 2);
+        Due.is("revoked", gate.prove(2, READ, 1), -2);
+        Due.is("the draft stays", draft(gate), "1:2,0");
+    }
+
+    @Sentence(of = "Promise 11", words = "-3 when the proof has more than 40 steps")
+    static void proveTooLong() {
+        for (int length = 38; length <= 44; length++) {
+            ProofGate gate = withProofOf(length);
+            Due.is("a proof of " + length, gate.prove(5, CREATE, 0), length <= 40 ? length : -3);
+            Due.is("steps", gate.steps(), length <= 40 ? length : 0);
+            Due.is("check", gate.check(5, CREATE, 0), length <= 40);
+        }
+    }
+
+    @Sentence(of = "Promise 11", words = "the draft stays then.")
+    static void draftStays() {
+        ProofGate gate = withProofOf(41);
+        steps(gate, 9, 8, 7, 6, 5, 4);
+        Due.is("no such goal", gate.prove(5, READ, 0), -1);
+        Due.is("draft", draft(gate), "9:8,7 6:5,4");
+        Due.is("not found", gate.prove(4, CREATE, 0), -2);
+        Due.is("draft", draft(gate), "9:8,7 6:5,4");
+        Due.is("too long", gate.prove(5, CREATE, 0), -3);
+        Due.is("draft", draft(gate), "9:8,7 6:5,4");
+    }
+
+    @Sentence(of = "Promise 11", words = "The prover's proof of the goal")
+    static void proofByOneWhoSpeaks() {
         for (int b = 1; b < 6; b++) {
             for (int x = 0; x < 6; x++) {
-                ProofGate gate = gateWithObject(0, 1, 77);
+                ProofGate gate = withObject(0, 1, 77);
                 give(gate, 0, VOICE, b % 5 + 1);
                 give(gate, b, GRANT, x, READ, 1);
                 Due.is("another one speaks for the owner", gate.prove(x, READ, 1), -2);
@@ -324,624 +572,407 @@ public final class PromiseTests {
         }
     }
 
-    private static void proveByEachRule() {
-        ProofGate gate = new ProofGate(5);
-        give(gate, 0, VOICE, 1);
-        give(gate, 1, GRANT, 3, CREATE, 0);
-        Due.is("rule 2", gate.prove(3, CREATE, 0), 3);
-        Due.is("its proof", draft(gate), "1:1,0 1:2,0 2:0,1");
-        ProofGate second = new ProofGate(5);
-        give(second, 1, GRANT, 3, CREATE, 0);
-        give(second, 0, TRUST, 1, CREATE, 0, 0);
-        Due.is("rule 3", second.prove(3, CREATE, 0), 3);
-        Due.is("its proof", draft(second), "1:2,0 1:1,0 3:0,1");
-        ProofGate third = new ProofGate(5);
-        give(third, 0, GRANT, 3, READ, 0);
-        give(third, 0, IMPLY, READ, CREATE);
-        Due.is("rule 7", third.prove(3, CREATE, 0), 2);
-        Due.is("its proof", draft(third), "1:1,0 7:2,0");
-        give(third, 1, IMPLY, READ, WRITE);
-        give(third, 0, GRANT, 4, WRITE, 0);
-        Due.is("an IMPLY goes one way, for its issuer", third.prove(4, CREATE, 0), -2);
-    }
-
-    private static void proveByLinks() {
-        ProofGate gate = new ProofGate(5);
-        give(gate, 0, TRUST, 1, CREATE, 0, 1);
-        give(gate, 1, TRUST, 2, CREATE, 0, 3);
-        give(gate, 3, VOICE, 4);
-        give(gate, 2, IMPLY, WRITE, CREATE);
-        give(gate, 2, GRANT, 5, WRITE, 0);
-        Due.is("rule 4", gate.prove(5, CREATE, 0), 6);
-        Due.is("its proof", draft(gate), "1:1,0 1:2,0 4:0,1 1:5,0 7:4,3 3:2,4");
-        ProofGate second = new ProofGate(5);
-        give(second, 0, VOICE, 1);
-        give(second, 1, TRUST, 2, CREATE, 0, 0);
-        give(second, 2, IMPLY, WRITE, CREATE);
-        give(second, 2, GRANT, 5, WRITE, 0);
-        Due.is("rule 5", second.prove(5, CREATE, 0), 6);
-        Due.is("its proof", draft(second), "1:1,0 1:2,0 5:0,1 1:4,0 7:3,3 3:2,4");
-        ProofGate third = new ProofGate(5);
-        give(third, 0, VOICE, 1);
-        give(third, 1, VOICE, 2);
-        give(third, 2, IMPLY, WRITE, CREATE);
-        give(third, 2, GRANT, 5, WRITE, 0);
-        Due.is("rule 6", third.prove(5, CREATE, 0), 6);
-        Due.is("its proof", draft(third), "1:2,0 1:1,0 6:0,1 1:4,0 7:3,3 2:2,4");
-    }
-
-    private static void proveDepth() {
-        for (int d = 0; d <= 3; d++) {
-            for (int e = 0; e <= 3; e++) {
-                ProofGate gate = new ProofGate(5);
-                give(gate, 0, TRUST, 1, CREATE, 0, d);
-                give(gate, 1, TRUST, 2, CREATE, 0, e);
-                give(gate, 2, TRUST, 3, CREATE, 0, 0);
-                steps(gate, 1, 1, 0, 1, 2, 0, 4, 0, 1, 1, 3, 0, 4, 2, 3);
-                give(gate, 3, GRANT, 5, CREATE, 0);
-                gate.step(1, 4, 0);
-                gate.step(3, 4, 5);
-                Due.is("depths " + d + " and " + e, gate.check(5, CREATE, 0), Math.min(d - 1, e) > 0);
-            }
-        }
-    }
-
-    private static void proveLeastWay() {
-        ProofGate gate = new ProofGate(5);
-        give(gate, 0, VOICE, 4);
-        give(gate, 0, VOICE, 3);
-        give(gate, 0, TRUST, 1, CREATE, 0, 0);
-        give(gate, 1, GRANT, 5, CREATE, 0);
-        give(gate, 3, GRANT, 5, CREATE, 0);
-        give(gate, 4, GRANT, 5, CREATE, 0);
-        gate.prove(5, CREATE, 0);
-        Due.is("the least rule, then the least b", draft(gate), "1:2,0 1:5,0 2:0,1");
-        give(gate, 0, GRANT, 5, CREATE, 0);
-        give(gate, 0, GRANT, 5, CREATE, 0);
-        gate.prove(5, CREATE, 0);
-        Due.is("the least credential", draft(gate), "1:7,0");
-        gate.revoke(0, 7);
-        gate.prove(5, CREATE, 0);
-        Due.is("the next when it is revoked", draft(gate), "1:8,0");
-        ProofGate second = new ProofGate(5);
-        give(second, 0, IMPLY, WRITE, CREATE);
-        give(second, 0, IMPLY, READ, CREATE);
-        give(second, 0, GRANT, 5, READ, 0);
-        give(second, 0, GRANT, 5, WRITE, 0);
-        second.prove(5, CREATE, 0);
-        Due.is("the least IMPLY", draft(second), "1:4,0 7:1,0");
-        give(second, 0, TRUST, 2, CREATE, 0, 3);
-        give(second, 0, TRUST, 2, CREATE, 0, 1);
-        give(second, 2, GRANT, 5, CREATE, 0);
-        second.prove(5, CREATE, 0);
-        Due.is("trust before IMPLY, the least d", draft(second), "1:6,0 1:7,0 3:0,1");
-    }
-
-    private static void proveLeastDeepWay() {
-        ProofGate gate = new ProofGate(5);
-        give(gate, 0, TRUST, 1, CREATE, 0, 2);
-        give(gate, 0, TRUST, 1, CREATE, 0, 1);
-        give(gate, 1, TRUST, 2, CREATE, 0, 3);
-        give(gate, 1, TRUST, 2, CREATE, 0, 2);
-        give(gate, 1, TRUST, 2, CREATE, 0, 0);
-        give(gate, 2, IMPLY, WRITE, CREATE);
-        give(gate, 2, GRANT, 5, WRITE, 0);
-        gate.prove(5, CREATE, 0);
-        Due.is("least d of the trust, then its reason", draft(gate), "1:2,0 1:5,0 4:0,1 1:7,0 7:6,3 3:2,4");
-        gate.revoke(1, 5);
-        gate.prove(5, CREATE, 0);
-        Due.is("least e", draft(gate), "1:2,0 1:4,0 4:0,1 1:7,0 7:6,3 3:2,4");
-        gate.revoke(0, 2);
-        gate.prove(5, CREATE, 0);
-        Due.is("next d", draft(gate), "1:1,0 1:4,0 4:0,1 1:7,0 7:6,3 3:2,4");
-    }
-
-    private static void proveDepthsOfLinks() {
-        ProofGate gate = new ProofGate(5);
-        give(gate, 0, TRUST, 1, CREATE, 0, 2);
-        give(gate, 1, TRUST, 2, CREATE, 0, 1);
-        give(gate, 0, TRUST, 3, CREATE, 0, 1);
-        give(gate, 3, TRUST, 2, CREATE, 0, 2);
-        give(gate, 2, IMPLY, WRITE, CREATE);
-        give(gate, 2, GRANT, 5, WRITE, 0);
-        gate.prove(5, CREATE, 0);
-        Due.is("by rule 4 the depth is 0 through 3, 1 through 1", draft(gate),
-                "1:3,0 1:4,0 4:0,1 1:6,0 7:5,3 3:2,4");
-        ProofGate second = new ProofGate(5);
-        give(second, 0, VOICE, 1);
-        give(second, 1, TRUST, 2, CREATE, 0, 3);
-        give(second, 0, TRUST, 3, CREATE, 0, 3);
-        give(second, 3, VOICE, 4);
-        give(second, 4, TRUST, 2, CREATE, 0, 2);
-        give(second, 2, GRANT, 5, READ, 0);
-        give(second, 2, IMPLY, READ, WRITE);
-        give(second, 2, IMPLY, WRITE, CREATE);
-        second.prove(5, CREATE, 0);
-        Due.is("by rule 5 the depth stays 3", draft(second),
-                "1:3,0 1:4,0 1:5,0 5:1,2 4:0,3 1:6,0 7:7,5 7:8,6 3:4,7");
-    }
-
-    private static void proveEarliestRound() {
-        ProofGate gate = new ProofGate(5);
-        give(gate, 0, VOICE, 1);
-        give(gate, 1, VOICE, 2);
-        give(gate, 2, GRANT, 5, CREATE, 0);
-        give(gate, 0, IMPLY, READ, CREATE);
-        give(gate, 0, GRANT, 5, READ, 0);
-        gate.prove(5, CREATE, 0);
-        Due.is("an earlier round beats a lesser rule", draft(gate), "1:5,0 7:4,0");
-        gate.revoke(0, 4);
-        gate.prove(5, CREATE, 0);
-        Due.is("the least b, though another is as early", draft(gate), "1:1,0 1:2,0 1:3,0 2:1,2 2:0,3");
-    }
-
-    private static void proveSharesSteps() {
-        ProofGate gate = new ProofGate(5);
-        give(gate, 0, VOICE, 1);
-        give(gate, 1, VOICE, 0);
-        give(gate, 1, GRANT, 5, READ, 2);
-        give(gate, 0, IMPLY, READ, WRITE);
-        give(gate, 1, IMPLY, WRITE, CREATE);
-        Due.is("there and back", gate.prove(5, CREATE, 2), 8);
-        Due.is("a fact is proved once", draft(gate), "1:1,0 1:2,0 1:3,0 2:0,2 7:4,3 2:1,4 7:5,5 2:0,6");
-    }
-
-    private static void trustRow(ProofGate gate, int r, int from, int to, int skipped) {
-        int way = from < to ? 1 : -1;
-        for (int i = from; i != to; i += way) {
-            if (i != skipped) {
-                give(gate, i + way, TRUST, i, r, 0, 0);
-            }
-        }
-    }
-
-    /**
-     * From principal start each right goes by trust through all principals, and by IMPLY to the next
-     * right: 44 steps from principal 0, two less for each link less. With a voice in place of two
-     * links of trust it is one step less.
-     */
-    private static ProofGate gateOfLongWay(int start, boolean voice) {
-        ProofGate gate = new ProofGate(5);
-        give(gate, start, GRANT, 5, READ, 0);
-        trustRow(gate, READ, start, 5, voice ? 4 : -1);
-        give(gate, 5, IMPLY, READ, WRITE);
-        trustRow(gate, WRITE, 5, 0, -1);
-        give(gate, 0, IMPLY, WRITE, OWN);
-        trustRow(gate, OWN, 0, 5, voice ? 4 : -1);
-        give(gate, 5, IMPLY, OWN, CREATE);
-        trustRow(gate, CREATE, 5, 0, -1);
-        if (voice) {
-            give(gate, 5, VOICE, 4);
-        }
-        return gate;
-    }
-
-    private static void proveLongWays() {
-        Object[][] ways = {{0, false, 44}, {1, false, 42}, {2, false, 40}, {3, false, 38},
-            {0, true, 43}, {1, true, 41}, {2, true, 39}};
-        for (Object[] way : ways) {
-            ProofGate gate = gateOfLongWay((Integer) way[0], (Boolean) way[1]);
-            int length = (Integer) way[2];
-            boolean fits = length <= 40;
-            gate.step(9, 9, 9);
-            Due.is("a proof of " + length + " steps", gate.prove(5, CREATE, 0), fits ? length : -3);
-            Due.is("the draft has", gate.steps(), fits ? length : 1);
-            Due.is("and proves", gate.check(5, CREATE, 0), fits);
-            Due.is("request", Due.outcome(() -> gate.request(5, CREATE, 0, 1, false)),
-                    fits ? "0" : "throws.UnsupportedOperationException");
-            Due.is("the draft stays", gate.steps(), fits ? length : 1);
-            Due.is("chain", gate.chain(), fits ? (5 * 31 + 24) * 31 + length : 0);
-        }
-    }
-
-    private static void checkNeedsEachStep() {
-        ProofGate gate = new ProofGate(5);
-        Due.is("no steps prove nothing", gate.check(0, READ, 0), false);
-        give(gate, 0, GRANT, 2, CREATE, 0);
-        give(gate, 0, GRANT, 2, CREATE, 1);
-        steps(gate, 1, 1, MIN);
-        Due.is("y means nothing with rule 1", gate.check(2, CREATE, 0), true);
-        Due.is("another principal", gate.check(1, CREATE, 0), false);
-        Due.is("another object", gate.check(2, CREATE, 1), false);
-        gate.step(1, 2, 0);
-        Due.is("the last step counts", gate.check(2, CREATE, 0), false);
-        Due.is("whatever is before it", gate.check(2, CREATE, 1), true);
-        for (int rule : new int[] {0, 8, -1, MIN, MAX}) {
-            steps(gate, rule, 1, 0, 1, 1, 0);
-            Due.is("no rule " + rule, gate.check(2, CREATE, 0), false);
-        }
-        for (int x : new int[] {0, 3, -1, 24, 25, MIN, MAX}) {
-            steps(gate, 1, x, 0, 1, 1, 0);
-            Due.is("no credential " + x, gate.check(2, CREATE, 0), false);
-        }
-        steps(gate, 1, 1, 0);
+    @Sentence(of = "Promise 12", words = "Whether the draft proves the goal of p for r with o")
+    static void checks() {
+        ProofGate gate = withReadable();
+        Due.is("an empty draft", gate.check(2, READ, 1), false);
+        steps(gate, 1, 2, 0);
+        Due.is("a proof", gate.check(2, READ, 1), true);
+        Due.is("of another goal", gate.check(2, WRITE, 1), false);
+        Due.is("the draft stays", draft(gate), "1:2,0");
         gate.pass(99);
-        Due.is("at the last time", gate.check(2, CREATE, 0), true);
+        Due.is("at its last time", gate.check(2, READ, 1), true);
         gate.pass(1);
-        Due.is("after it", gate.check(2, CREATE, 0), false);
+        Due.is("after it", gate.check(2, READ, 1), false);
     }
 
-    private static void checkRevoked() {
-        ProofGate gate = new ProofGate(5);
-        give(gate, 0, GRANT, 2, WRITE, 0);
-        give(gate, 0, IMPLY, WRITE, CREATE);
-        give(gate, 0, GRANT, 2, CREATE, 0);
-        steps(gate, 1, 1, 0, 7, 2, 0);
-        Due.is("before", gate.check(2, CREATE, 0), true);
-        gate.revoke(0, 2);
-        Due.is("the IMPLY is revoked", gate.check(2, CREATE, 0), false);
-        steps(gate, 1, 1, 0, 1, 3, 0);
-        Due.is("a step that is not needed", gate.check(2, CREATE, 0), true);
-        gate.revoke(0, 1);
-        Due.is("must hold all the same", gate.check(2, CREATE, 0), false);
-    }
-
-    private static void checkOneRule() {
-        ProofGate gate = new ProofGate(5);
-        give(gate, 0, VOICE, 1);
-        give(gate, 0, TRUST, 1, CREATE, 0, 0);
-        give(gate, 1, GRANT, 3, CREATE, 0);
-        give(gate, 1, GRANT, 3, WRITE, 0);
-        give(gate, 1, GRANT, 3, CREATE, 1);
-        give(gate, 0, IMPLY, WRITE, CREATE);
-        give(gate, 2, GRANT, 3, CREATE, 0);
-        give(gate, 0, GRANT, 3, WRITE, 0);
-        give(gate, 0, GRANT, 3, READ, 0);
-        give(gate, 0, TRUST, 3, CREATE, 0, 0);
-        int[] base = {1, 1, 0, 1, 2, 0, 1, 3, 0, 1, 4, 0, 1, 5, 0, 1, 7, 0, 1, 8, 0, 1, 9, 0, 1, 10, 0};
-        int[][] right = {{2, 0, 2}, {3, 1, 2}, {7, 6, 6}};
-        int[][] wrong = {{2, 2, 0}, {2, 1, 2}, {2, 0, 5}, {2, 0, 3}, {2, 0, 4}, {2, 0, 1}, {2, 0, 0},
-            {3, 0, 2}, {3, 2, 1}, {3, 1, 3}, {3, 1, 4}, {3, 1, 5}, {3, 1, 1}, {4, 1, 2}, {5, 0, 2}, {6, 0, 2},
-            {7, 6, 3}, {7, 6, 7}, {7, 6, 8}, {7, 6, 9}, {7, 6, -1}, {7, 1, 6}, {7, 0, 6}, {7, 11, 6},
-            {1, 6, 0}, {1, 3, 0}, {2, 0, 9}, {2, 9, 2}, {2, -1, 2}, {2, 0, -1}, {2, 0, MAX}, {2, MIN, 2},
-            {3, 8, 2}, {0, 0, 2}, {8, 0, 2}};
-        for (int[] step : right) {
-            steps(gate, base);
-            gate.step(step[0], step[1], step[2]);
-            Due.is("step " + java.util.Arrays.toString(step), gate.check(3, CREATE, 0), true);
-        }
-        for (int[] step : wrong) {
-            // A right proof first: nothing of it may be left for the wrong one.
-            steps(gate, base);
-            gate.step(2, 0, 2);
-            Due.is("a right step", gate.check(3, CREATE, 0), true);
-            steps(gate, base);
-            gate.step(step[0], step[1], step[2]);
-            Due.is("step " + java.util.Arrays.toString(step), gate.check(3, CREATE, 0), false);
-        }
-    }
-
-    private static void checkLinkRules() {
-        ProofGate gate = new ProofGate(5);
-        give(gate, 0, VOICE, 1);
-        give(gate, 1, VOICE, 2);
-        give(gate, 0, TRUST, 1, CREATE, 0, 1);
-        give(gate, 0, TRUST, 1, CREATE, 0, 0);
-        give(gate, 1, TRUST, 2, CREATE, 0, 0);
-        give(gate, 1, TRUST, 2, WRITE, 0, 0);
-        give(gate, 1, TRUST, 2, CREATE, 1, 0);
-        give(gate, 3, TRUST, 2, CREATE, 0, 0);
-        give(gate, 2, GRANT, 5, CREATE, 0);
-        int[] base = new int[27];
-        for (int k = 0; k < 9; k++) {
-            base[3 * k] = 1;
-            base[3 * k + 1] = k + 1;
-        }
-        int[][] links = {{4, 2, 4, 3}, {5, 0, 4, 3}, {6, 1, 0, 2}};
-        for (int[] link : links) {
-            steps(gate, base);
-            gate.step(link[0], link[1], link[2]);
-            gate.step(link[3], 9, 8);
-            Due.is("link " + java.util.Arrays.toString(link), gate.check(5, CREATE, 0), true);
-        }
-        int[][] wrong = {{4, 3, 4, 3}, {4, 4, 2, 3}, {4, 2, 5, 3}, {4, 2, 6, 3}, {4, 2, 7, 3}, {4, 0, 4, 3},
-            {4, 2, 1, 2}, {5, 4, 0, 3}, {5, 1, 4, 3}, {5, 0, 5, 3}, {5, 0, 6, 3}, {5, 0, 7, 3}, {5, 2, 4, 3},
-            {5, 0, 1, 2}, {6, 0, 1, 2}, {6, 1, 1, 2}, {6, 0, 0, 2}, {6, 4, 2, 3}, {6, 1, 2, 2}, {6, 4, 0, 3}};
-        for (int[] link : wrong) {
-            int[] before = links[link[3] == 2 ? 2 : 0];
-            steps(gate, base);
-            gate.step(before[0], before[1], before[2]);
-            gate.step(before[3], 9, 8);
-            Due.is("a right link", gate.check(5, CREATE, 0), true);
-            steps(gate, base);
-            gate.step(link[0], link[1], link[2]);
-            gate.step(link[3], 9, 8);
-            Due.is("link " + java.util.Arrays.toString(link), gate.check(5, CREATE, 0), false);
-        }
-    }
-
-    private static void checkLooksBackOnly() {
-        ProofGate gate = new ProofGate(5);
-        give(gate, 0, VOICE, 1);
-        give(gate, 1, GRANT, 3, CREATE, 0);
-        int[][] drafts = {{1, 2, 0, 1, 1, 0}, {1, 2, 0, 2, 1, 0}, {1, 1, 0, 1, 2, 0}, {1, 1, 0, 2, 0, 1},
-            {1, 2, 0, 1, 2, 0, 1, 1, 0}, {1, 2, 0, 2, 2, 0}, {2, 1, 2, 1, 1, 0, 1, 2, 0},
-            {1, 2, 0, 1, 1, 0}, {1, 2, 0, 2, 1, 0, 1, 1, 0, 2, 2, 0},
-            {1, 1, 0, 1, 2, 0}, {1, 1, 0, 2, 0, 1, 1, 2, 0, 2, 0, 2}};
-        for (int[] draft : drafts) {
-            steps(gate, draft);
-            Due.is("draft " + java.util.Arrays.toString(draft), gate.check(3, CREATE, 0), false);
-        }
-        steps(gate, 1, 2, 0, 1, 1, 0, 2, 1, 0);
-        Due.is("earlier steps", gate.check(3, CREATE, 0), true);
-    }
-
-    private static void checkImplyOnly() {
-        ProofGate gate = new ProofGate(5);
-        give(gate, 0, GRANT, WRITE, CREATE, 0);
-        give(gate, 0, GRANT, 5, WRITE, 0);
-        give(gate, 0, TRUST, WRITE, CREATE, 0, 0);
-        give(gate, 0, TRUST, 1, WRITE, 0, 0);
-        give(gate, 1, GRANT, 5, CREATE, 0);
-        give(gate, 0, IMPLY, WRITE, CREATE);
-        steps(gate, 1, 2, 0, 7, 6, 0);
-        Due.is("an IMPLY", gate.check(5, CREATE, 0), true);
-        steps(gate, 1, 2, 0, 7, 1, 0);
-        Due.is("a GRANT with the same numbers", gate.check(5, CREATE, 0), false);
-        steps(gate, 1, 2, 0, 7, 3, 0);
-        Due.is("a TRUST with the same numbers", gate.check(5, CREATE, 0), false);
-        steps(gate, 1, 4, 0, 7, 6, 0, 1, 5, 0, 3, 1, 2);
-        Due.is("an IMPLY says nothing of trust", gate.check(5, CREATE, 0), false);
-    }
-
-    private static void checkDepthByVoice() {
-        for (int d = 3; d >= 0; d--) {
-            ProofGate gate = new ProofGate(5);
-            give(gate, 0, VOICE, 1);
-            give(gate, 1, TRUST, 2, CREATE, 0, d);
-            give(gate, 2, TRUST, 3, CREATE, 0, 0);
-            give(gate, 3, GRANT, 5, CREATE, 0);
-            give(gate, 1, TRUST, 2, CREATE, 0, 3);
-            give(gate, 1, TRUST, 2, CREATE, 0, 0);
-            steps(gate, 1, 1, 0, 1, 5, 0, 5, 0, 1, 1, 3, 0, 4, 2, 3, 1, 4, 0, 3, 4, 5);
-            Due.is("depth 3", gate.check(5, CREATE, 0), true);
-            steps(gate, 1, 1, 0, 1, 6, 0, 5, 0, 1, 1, 3, 0, 4, 2, 3, 1, 4, 0, 3, 4, 5);
-            Due.is("depth 0", gate.check(5, CREATE, 0), false);
-            steps(gate, 1, 1, 0, 1, 2, 0, 5, 0, 1, 1, 3, 0, 4, 2, 3, 1, 4, 0, 3, 4, 5);
-            Due.is("depth " + d, gate.check(5, CREATE, 0), d > 0);
-        }
-    }
-
-    private static void checkOfOwner() {
-        ProofGate gate = gateWithObject(2, 1, 77);
-        give(gate, 2, GRANT, 4, OWN, 1);
-        give(gate, 3, GRANT, 4, OWN, 1);
-        steps(gate, 1, 2, 0);
-        Due.is("said by the owner", gate.check(4, OWN, 1), true);
-        Due.is("request", gate.request(4, OWN, 1, 3, false), 2);
-        Due.is("said by the old owner", gate.check(4, OWN, 1), false);
-        steps(gate, 1, 3, 0);
-        Due.is("said by the new one", gate.check(4, OWN, 1), true);
-        Due.is("no more", gate.request(4, OWN, 1, 6, false), 3);
-        Due.is("the object is there no more", gate.check(4, OWN, 1), false);
-    }
-
-    private static void requestEffects() {
-        ProofGate gate = gateWithObject(2, 1, 77);
-        give(gate, 2, GRANT, 2, READ, 1);
-        give(gate, 2, GRANT, 2, WRITE, 1);
+    @Sentence(of = "Promise 12", words = "false, too, when prove would answer -1.")
+    static void checksNoGoal() {
+        ProofGate gate = withReadable();
         give(gate, 2, GRANT, 2, OWN, 1);
-        give(gate, 4, GRANT, 2, READ, 1);
-        give(gate, 4, GRANT, 2, OWN, 1);
-        Due.is("read", gate.request(2, READ, 1, 5, false), 77);
-        Due.is("write", gate.request(2, WRITE, 1, MIN, false), 77);
-        Due.is("read what was written", gate.request(2, READ, 1, 5, false), MIN);
-        Due.is("give away", gate.request(2, OWN, 1, 4, false), 2);
-        Due.is("the new owner", gate.owner(1), 4);
-        Due.is("the value stays", gate.request(2, READ, 1, 5, false), MIN);
-        Due.throwing("the new owner said nothing of WRITE", UOE, () -> gate.request(2, WRITE, 1, 5, false));
-        Due.is("take away", gate.request(2, OWN, 1, -1, false), 4);
-        Due.is("there no more", gate.owner(1), -1);
-        Due.throwing("there no more", NSE, () -> gate.request(2, READ, 1, 5, false));
-        Due.is("create again", gate.request(2, CREATE, 1, -9, false), 0);
-        Due.is("the creator is the owner", gate.owner(1), 2);
-        Due.is("with a new value", gate.request(2, READ, 1, 0, false), -9);
-        Due.is("grants", gate.grants(), 9);
-        int chain = 0;
-        int[] rights = {3, 0, 1, 0, 2, 0, 2, 3, 0};
-        for (int r : rights) {
-            chain = ((chain ^ 2) * 31 + 8 * r + 1) * 31 + 1;
-        }
-        Due.is("chain", gate.chain(), chain);
-    }
-
-    private static void requestOwnTo() {
-        for (int v : new int[] {0, 5, 6, -1, MIN, MAX}) {
-            ProofGate gate = gateWithObject(2, 1, 77);
-            give(gate, 2, GRANT, 3, OWN, 1);
-            Due.is("own, " + v, gate.request(3, OWN, 1, v, false), 2);
-            Due.is("owner", gate.owner(1), v >= 0 && v <= 5 ? v : -1);
-        }
-    }
-
-    private static void requestRefusals() {
-        ProofGate gate = gateWithObject(2, 1, 77);
-        give(gate, 2, GRANT, 2, READ, 1);
         steps(gate, 1, 2, 0);
-        int chain = gate.chain();
-        for (boolean given : new boolean[] {false, true}) {
-            for (int bad : new int[] {-1, 6, MIN, MAX}) {
+        for (int bad : NOT_0_TO_5) {
+            Due.is("no principal", gate.check(bad, READ, 1), false);
+            Due.is("no object", gate.check(2, READ, bad), false);
+            Due.is("no object to create", gate.check(2, CREATE, bad), false);
+        }
+        for (int bad : NOT_0_TO_3) {
+            Due.is("no right", gate.check(2, bad, 1), false);
+        }
+        Due.is("not there", gate.check(2, READ, 0), false);
+        gate.request(2, OWN, 1, -1, false);
+        Due.is("there no more", gate.check(2, READ, 1), false);
+        steps(gate, 1, 1, 0);
+        Due.is("CREATE of what is not there", gate.check(2, CREATE, 1), true);
+        gate.request(2, CREATE, 1, 0, false);
+        Due.is("CREATE of what is there", gate.check(2, CREATE, 1), false);
+        Due.is("the draft stays", draft(gate), "1:1,0");
+    }
+
+    @Sentence(of = "Promise 13", words = "right 0: its value")
+    static void reads() {
+        ProofGate gate = withReadable();
+        Due.is("value", gate.request(2, READ, 1, 5, false), 77);
+        Due.is("it stays", gate.request(2, READ, 1, MIN, false), 77);
+        Due.is("so does the owner", gate.owner(1), 2);
+    }
+
+    @Sentence(of = "Promise 13", words = "1: its value becomes v, the old one")
+    static void writes() {
+        ProofGate gate = withReadable();
+        give(gate, 2, GRANT, 2, WRITE, 1);
+        int old = 77;
+        for (int v : new int[] {MIN, MAX, -1, 0, 0, 6}) {
+            Due.is("the old value", gate.request(2, WRITE, 1, v, false), old);
+            Due.is("the new value", gate.request(2, READ, 1, 3, false), v);
+            old = v;
+        }
+        Due.is("the owner stays", gate.owner(1), 2);
+    }
+
+    @Sentence(of = "Promise 13", words = "2: when v is 0 .. 5 its owner becomes v")
+    static void handsOver() {
+        for (int v = 0; v <= 5; v++) {
+            ProofGate gate = withObject(2, 1, 77);
+            give(gate, 2, GRANT, 3, OWN, 1);
+            give(gate, v, GRANT, 4, READ, 1);
+            Due.is("the old owner", gate.request(3, OWN, 1, v, false), 2);
+            Due.is("the new owner", gate.owner(1), v);
+            Due.is("the value stays", gate.request(4, READ, 1, 9, false), 77);
+        }
+    }
+
+    @Sentence(of = "Promise 13", words = "otherwise it is there no more; the old owner")
+    static void takesAway() {
+        for (int v : NOT_0_TO_5) {
+            ProofGate gate = withReadable();
+            give(gate, 2, GRANT, 3, OWN, 1);
+            Due.is("the old owner", gate.request(3, OWN, 1, v, false), 2);
+            Due.is("no owner", gate.owner(1), -1);
+            Due.throwing("no value", NSE, () -> gate.request(2, READ, 1, 0, false));
+            Due.is("it can be made anew", gate.request(2, CREATE, 1, 8, false), 0);
+            Due.is("with another value", gate.request(2, READ, 1, 0, false), 8);
+        }
+    }
+
+    @Sentence(of = "Promise 13", words = "3: it is there with owner p and value v; 0.")
+    static void creates() {
+        for (int v : new int[] {MIN, -1, 0, 6, MAX}) {
+            for (int p = 0; p <= 5; p++) {
+                ProofGate gate = new ProofGate(5);
+                give(gate, ROOT, GRANT, p, CREATE, 5);
+                give(gate, p, GRANT, p, READ, 5);
+                Due.is("create", gate.request(p, CREATE, 5, v, false), 0);
+                Due.is("owner", gate.owner(5), p);
+                Due.is("value", gate.request(p, READ, 5, 0, false), v);
+            }
+        }
+    }
+
+    @Sentence(of = "Promise 13", words = "It is GRANTED when, with given, the draft proves the goal")
+    static void grantedByDraft() {
+        ProofGate gate = withReadable();
+        steps(gate, 1, 1, 0, 1, 2, 0);
+        Due.is("a draft that the prover would not write", gate.request(2, READ, 1, 0, true), 77);
+        steps(gate, 1, 1, 0);
+        Due.throwing("a draft that proves another fact", UOE, () -> gate.request(2, READ, 1, 0, true));
+        Due.throwing("an empty draft, though the prover would find it", UOE, () -> gate.request(2, READ, 1, 0, true));
+        for (int length : new int[] {39, 40}) {
+            for (int k = 0; k < length; k++) {
+                gate.step(1, 2, 0);
+            }
+            Due.is("a draft of " + length, gate.request(2, READ, 1, 0, true), 77);
+        }
+    }
+
+    @Sentence(of = "Promise 13", words = "and without, the prover finds it and its proof has at most 40 steps.")
+    static void grantedByProver() {
+        for (int length = 38; length <= 44; length++) {
+            ProofGate gate = withProofOf(length);
+            boolean fits = length <= 40;
+            Due.is("a proof of " + length, Due.outcome(() -> gate.request(5, CREATE, 0, 1, false)),
+                    fits ? "0" : "throws.UnsupportedOperationException");
+            Due.is("owner", gate.owner(0), fits ? 5 : -1);
+            Due.is("grants", gate.grants(), fits ? 1 : 0);
+            Due.is("chain", gate.chain(), fits ? link(0, 5, CREATE, 0, length) : 0);
+        }
+    }
+
+    @Sentence(of = "Promise 13", words = "The draft is empty then, with given, whether it was granted or not.")
+    static void draftIsSpent() {
+        ProofGate gate = withReadable();
+        steps(gate, 1, 2, 0);
+        gate.request(2, READ, 1, 0, true);
+        Due.is("granted", gate.steps(), 0);
+        steps(gate, 1, 2, 0);
+        Due.throwing("not granted", UOE, () -> gate.request(2, WRITE, 1, 0, true));
+        Due.is("not granted", gate.steps(), 0);
+    }
+
+    @Sentence(of = "Promise 13", words = "The draft is empty then, with given")
+    static void draftStaysWithoutGiven() {
+        ProofGate gate = withReadable();
+        steps(gate, 1, 1, 0, 9, 9, 9);
+        gate.request(2, READ, 1, 0, false);
+        Due.is("granted", draft(gate), "1:1,0 9:9,9");
+        Due.throwing("not granted", UOE, () -> gate.request(2, WRITE, 1, 0, false));
+        Due.is("not granted", draft(gate), "1:1,0 9:9,9");
+    }
+
+    @Sentence(of = "Promise 13", words = "A grant is recorded, and is in the audit log.")
+    static void grantIsLogged() {
+        for (int r = READ; r <= CREATE; r++) {
+            for (boolean given : GIVEN_OR_NOT) {
+                ProofGate gate = withObject(2, 1, 77);
+                int o = r == CREATE ? 0 : 1;
+                int number = give(gate, r == CREATE ? ROOT : 2, GRANT, 3, r, o);
+                int chain = gate.chain();
+                steps(gate, 1, 1, 0, 1, number, 0);
+                gate.fuse(1);
+                gate.request(3, r, o, 4, given);
+                Due.is("grants", gate.grants(), 2);
+                Due.is("chain", gate.chain(), link(chain, 3, r, o, given ? 2 : 1));
+                Due.throwing("the record was written", ISE, () -> give(gate, 1, VOICE, 2));
+                Due.is("and is there", gate.grants(), 2);
+            }
+        }
+    }
+
+    @Sentence(of = "Promise 13", words = "IllegalArgumentException when there is no such principal, right or object")
+    static void requestOfNothing() {
+        ProofGate gate = withReadable();
+        for (boolean given : GIVEN_OR_NOT) {
+            steps(gate, 1, 2, 0);
+            for (int bad : NOT_0_TO_5) {
                 Due.throwing("no principal", IAE, () -> gate.request(bad, READ, 1, 0, given));
-                Due.throwing("no right", IAE, () -> gate.request(2, bad == 6 ? 4 : bad, 1, 0, given));
+                Due.throwing("no principal, not there", IAE, () -> gate.request(bad, READ, 0, 0, given));
+                Due.throwing("no principal, there", IAE, () -> gate.request(bad, CREATE, 1, 0, given));
                 Due.throwing("no object", IAE, () -> gate.request(2, READ, bad, 0, given));
                 Due.throwing("no object to create", IAE, () -> gate.request(2, CREATE, bad, 0, given));
             }
-            Due.throwing("not there", NSE, () -> gate.request(2, READ, 0, 0, given));
-            Due.throwing("there already", NSE, () -> gate.request(2, CREATE, 1, 0, given));
+            for (int bad : NOT_0_TO_3) {
+                Due.throwing("no right", IAE, () -> gate.request(2, bad, 1, 0, given));
+                Due.throwing("no right, not there", IAE, () -> gate.request(2, bad, 0, 0, given));
+            }
         }
-        Due.throwing("not granted", UOE, () -> gate.request(2, WRITE, 1, 0, false));
-        Due.is("the draft stays with all of these", draft(gate), "1:2,0");
-        Due.throwing("not granted by the draft", UOE, () -> gate.request(2, WRITE, 1, 0, true));
-        Due.is("the draft is empty then", gate.steps(), 0);
-        Due.throwing("an empty draft grants nothing", UOE, () -> gate.request(2, READ, 1, 0, true));
         Due.is("no grants", gate.grants(), 1);
-        Due.is("no link", gate.chain(), chain);
-        Due.is("no effect", gate.request(2, READ, 1, 0, false), 77);
     }
 
-    private static void requestGiven() {
-        ProofGate gate = gateWithObject(2, 1, 77);
-        give(gate, 2, GRANT, 2, READ, 1);
-        steps(gate, 1, 1, 0, 1, 2, 0);
-        int chain = gate.chain();
-        Due.is("not given", gate.request(2, READ, 1, 0, false), 77);
-        chain = ((chain ^ 2) * 31 + 1) * 31 + 1;
-        Due.is("the prover's proof has one step", gate.chain(), chain);
-        Due.is("the draft stays", gate.steps(), 2);
-        Due.is("given", gate.request(2, READ, 1, 0, true), 77);
-        chain = ((chain ^ 2) * 31 + 1) * 31 + 2;
-        Due.is("the draft has two", gate.chain(), chain);
-        Due.is("and is empty now", gate.steps(), 0);
-        Due.is("grants", gate.grants(), 3);
-    }
-
-    private static void requestCrash() {
-        for (int r = 0; r < 4; r++) {
-            for (boolean given : new boolean[] {false, true}) {
+    @Sentence(of = "Promise 13", words = "NoSuchElementException when the object is not there (with CREATE: when it is)")
+    static void requestOfObjectNotThere() {
+        ProofGate gate = withReadable();
+        for (boolean given : GIVEN_OR_NOT) {
+            for (int r = READ; r <= OWN; r++) {
                 int right = r;
-                int o = r == CREATE ? 0 : 1;
-                ProofGate gate = gateWithObject(2, 1, 77);
-                give(gate, r == CREATE ? 0 : 2, GRANT, 3, r, o);
-                give(gate, 2, GRANT, 3, READ, 1);
-                steps(gate, 1, 2, 0);
-                int chain = gate.chain();
-                gate.fuse(0);
-                Due.throwing("crash", ISE, () -> gate.request(3, right, o, 4, given));
-                Due.is("no grant", gate.grants(), 1);
-                Due.is("no link", gate.chain(), chain);
-                Due.is("same owner", gate.owner(1), 2);
-                Due.is("not made", gate.owner(0), -1);
-                Due.is("the draft is empty", gate.steps(), 0);
-                Due.is("same credentials", gate.credentials(), 3);
-                Due.is("same value", gate.request(3, READ, 1, 0, false), 77);
-                Due.is("the fuse is out", gate.request(3, right, o, 4, false), new int[] {77, 77, 2, 0}[r]);
+                Due.throwing("not there", NSE, () -> gate.request(2, right, 0, 0, given));
             }
+            steps(gate, 1, 1, 0);
+            Due.throwing("there, though it could be created", NSE, () -> gate.request(2, CREATE, 1, 0, given));
+            Due.throwing("there, and could not", NSE, () -> gate.request(4, CREATE, 1, 0, given));
+        }
+        Due.is("it stays as it was", gate.request(2, READ, 1, 0, false), 77);
+        Due.is("one grant more", gate.grants(), 2);
+    }
+
+    @Sentence(of = "Promise 13", words = "UnsupportedOperationException when it is not granted")
+    static void requestNotGranted() {
+        ProofGate gate = withReadable();
+        int chain = gate.chain();
+        gate.fuse(0);
+        for (boolean given : GIVEN_OR_NOT) {
+            Due.throwing("WRITE", UOE, () -> gate.request(2, WRITE, 1, 5, given));
+            Due.throwing("OWN", UOE, () -> gate.request(2, OWN, 1, 5, given));
+            Due.throwing("no more", UOE, () -> gate.request(2, OWN, 1, -1, given));
+            Due.throwing("CREATE", UOE, () -> gate.request(2, CREATE, 0, 5, given));
+            Due.throwing("another's READ", UOE, () -> gate.request(3, READ, 1, 5, given));
+        }
+        Due.is("owner", gate.owner(1), 2);
+        Due.is("not created", gate.owner(0), -1);
+        Due.is("grants", gate.grants(), 1);
+        Due.is("chain", gate.chain(), chain);
+        Due.throwing("the fuse is lit yet", ISE, () -> gate.request(2, READ, 1, 0, false));
+        Due.is("value", gate.request(2, READ, 1, 0, false), 77);
+    }
+
+    @Sentence(of = "Promise 13", words = "IllegalStateException when the machine crashes.")
+    static void requestCrashes() {
+        for (boolean given : GIVEN_OR_NOT) {
+            ProofGate gate = withReadable();
+            steps(gate, 1, 2, 0);
+            gate.fuse(0);
+            Due.throwing("crash", ISE, () -> gate.request(2, READ, 1, 0, given));
+            Due.is("the draft is empty", gate.steps(), 0);
+            Due.is("no grant", gate.grants(), 1);
+            Due.is("after it", gate.request(2, READ, 1, 0, false), 77);
         }
     }
 
-    private static void fuse() {
-        ProofGate gate = gateWithObject(2, 1, 77);
-        give(gate, 2, GRANT, 2, READ, 1);
-        for (int n : new int[] {-1, 51, MIN, MAX}) {
+    @Sentence(of = "Promise 13", words = "(The draft stays with the first two of these.)")
+    static void draftStaysWithRefusals() {
+        ProofGate gate = withReadable();
+        steps(gate, 1, 1, 0, 1, 2, 0);
+        for (boolean given : GIVEN_OR_NOT) {
+            Due.throwing("no principal", IAE, () -> gate.request(6, READ, 1, 0, given));
+            Due.is("draft", draft(gate), "1:1,0 1:2,0");
+            Due.throwing("no right", IAE, () -> gate.request(2, 4, 1, 0, given));
+            Due.is("draft", draft(gate), "1:1,0 1:2,0");
+            Due.throwing("no object", IAE, () -> gate.request(2, READ, 6, 0, given));
+            Due.is("draft", draft(gate), "1:1,0 1:2,0");
+            Due.throwing("not there", NSE, () -> gate.request(2, READ, 0, 0, given));
+            Due.is("draft", draft(gate), "1:1,0 1:2,0");
+            Due.throwing("there", NSE, () -> gate.request(2, CREATE, 1, 0, given));
+            Due.is("draft", draft(gate), "1:1,0 1:2,0");
+        }
+    }
+
+    @Sentence(of = "Promise 14", words = "Lights the fuse with n (0 .. 50)")
+    static void lights() {
+        for (int n = 0; n <= 50; n++) {
+            ProofGate gate = withReadable();
+            Due.is("fuse " + n, gate.fuse(n), true);
+            for (int i = 0; i < n; i++) {
+                Due.is("record", gate.request(2, READ, 1, 0, false), 77);
+            }
+            Due.throwing("the next record", ISE, () -> gate.request(2, READ, 1, 0, false));
+        }
+    }
+
+    @Sentence(of = "Promise 14", words = "in place of one that is lit: true")
+    static void lightsInPlace() {
+        int[][] pairs = {{0, 50}, {50, 0}, {0, 0}, {2, 1}, {1, 2}, {50, 50}};
+        for (int[] pair : pairs) {
+            ProofGate gate = withReadable();
+            gate.fuse(pair[0]);
+            Due.is("fuse " + pair[1] + " in place of " + pair[0], gate.fuse(pair[1]), true);
+            for (int i = 0; i < pair[1]; i++) {
+                Due.is("record", gate.request(2, READ, 1, 0, false), 77);
+            }
+            Due.throwing("the next record", ISE, () -> gate.request(2, READ, 1, 0, false));
+            Due.is("then none is lit", gate.request(2, READ, 1, 0, false), 77);
+        }
+    }
+
+    @Sentence(of = "Promise 14", words = "in place of one that is lit")
+    static void lightsInPlaceOfBurnt() {
+        ProofGate gate = withReadable();
+        gate.fuse(2);
+        gate.request(2, READ, 1, 0, false);
+        gate.fuse(2);
+        Due.is("first of two", gate.request(2, READ, 1, 0, false), 77);
+        Due.is("second of two", gate.request(2, READ, 1, 0, false), 77);
+        Due.throwing("the third", ISE, () -> gate.request(2, READ, 1, 0, false));
+    }
+
+    @Sentence(of = "Promise 14", words = "false when n is not so.")
+    static void lightsNot() {
+        ProofGate gate = withReadable();
+        for (int n : new int[] {MIN, -1, 51, MAX}) {
             Due.is("fuse " + n, gate.fuse(n), false);
+            Due.is("none is lit", gate.request(2, READ, 1, 0, false), 77);
         }
-        Due.is("none is lit", gate.revoke(2, give(gate, 2, VOICE, 1)), true);
-        Due.is("fuse 2", gate.fuse(2), true);
-        Due.is("a wrong one leaves it", gate.fuse(51), false);
-        Due.is("record 1", give(gate, 2, VOICE, 1), 4);
-        Due.throwing("a refusal is no record", UOE, () -> gate.request(2, WRITE, 1, 0, false));
-        Due.is("record 2", gate.revoke(2, 4), true);
-        Due.throwing("record 3", ISE, () -> gate.request(2, READ, 1, 0, false));
-        Due.is("after the crash", gate.request(2, READ, 1, 0, false), 77);
-        Due.is("fuse 0", gate.fuse(0), true);
-        Due.is("fuse 50 in its place", gate.fuse(50), true);
-        for (int i = 0; i < 50; i++) {
-            Due.is("record " + i, gate.request(2, READ, 1, 0, false), 77);
+        for (int n : new int[] {MIN, -1, 51, MAX}) {
+            gate.fuse(1);
+            Due.is("fuse " + n, gate.fuse(n), false);
+            Due.is("the one that is lit", gate.request(2, READ, 1, 0, false), 77);
+            Due.throwing("stays lit", ISE, () -> gate.request(2, READ, 1, 0, false));
         }
-        gate.step(1, 1, 1);
-        Due.throwing("record 51", ISE, () -> gate.request(2, READ, 1, 0, false));
-        Due.is("the draft is empty", gate.steps(), 0);
-        Due.is("grants", gate.grants(), 52);
-        gate.fuse(3);
-        Due.is("fuse 0 in its place", gate.fuse(0), true);
-        Due.throwing("at once", ISE, () -> give(gate, 2, VOICE, 1));
-        Due.is("all that was recorded is there", gate.credentials(), 4);
-        Due.is("revocations too", gate.valid(4), false);
-        Due.is("and objects", gate.owner(1), 2);
-        Due.is("time goes on from where it was", gate.pass(1), 1);
     }
 
-    private static void owner() {
-        ProofGate gate = gateWithObject(2, 5, 77);
-        give(gate, 0, GRANT, 0, CREATE, 0);
+    @Sentence(of = "Promise 15", words = "The owner of an object; -1 when there is no such one.")
+    static void owners() {
+        ProofGate gate = withObject(5, 5, 77);
+        give(gate, ROOT, GRANT, 0, CREATE, 0);
         gate.request(0, CREATE, 0, 1, false);
-        int[] due = {-1, 0, -1, -1, -1, -1, 2, -1};
-        for (int o = -1; o <= 6; o++) {
-            Due.is("owner " + o, gate.owner(o), due[o + 1]);
+        int[] due = {0, -1, -1, -1, -1, 5};
+        for (int o = 0; o <= 5; o++) {
+            Due.is("owner of " + o, gate.owner(o), due[o]);
         }
-        Due.is("owner of the least", gate.owner(MIN), -1);
-        Due.is("owner of the most", gate.owner(MAX), -1);
+        for (int o : NOT_0_TO_5) {
+            Due.is("no object " + o, gate.owner(o), -1);
+        }
     }
 
-    private static void valid() {
+    @Sentence(of = "Promise 16", words = "How many credentials there are.")
+    static void countsCredentials() {
         ProofGate gate = new ProofGate(5);
-        giveFor(gate, 2, 4, 1, VOICE, 1);
-        giveFor(gate, 3, 3, 1, VOICE, 1);
-        giveFor(gate, 4, 3, 1, VOICE, 1);
-        giveFor(gate, -5, -1, 1, VOICE, 1);
-        String[] due = {"0000", "0000", "1000", "1100", "1000", "0000"};
+        for (int count = 0; count < 24; count++) {
+            Due.is("credentials", gate.credentials(), count);
+            giveFor(gate, count, count - count % 2, 1, VOICE, 2);
+        }
+        Due.is("24", gate.credentials(), 24);
+        gate.revoke(1, 1);
+        gate.pass(100);
+        Due.is("revoked ones and those of the past count", gate.credentials(), 24);
+        Due.throwing("the 25th", ISE, () -> give(gate, 1, VOICE, 2));
+        Due.is("24 at most", gate.credentials(), 24);
+    }
+
+    @Sentence(of = "Promise 17", words = "Whether a credential is valid now")
+    static void validNow() {
+        ProofGate gate = new ProofGate(5);
+        giveFor(gate, 2, 3, 1, VOICE, 2);
+        boolean[] due = {false, false, true, true, false, false};
         for (int time = 0; time < due.length; time++) {
-            for (int number = 1; number <= 4; number++) {
-                Due.is("credential " + number + " at " + time, gate.valid(number), due[time].charAt(number - 1) == '1');
-            }
+            Due.is("valid at " + time, gate.valid(1), due[time]);
             gate.pass(1);
         }
-        for (int number : new int[] {0, 5, -1, MIN, MAX}) {
+        giveFor(gate, MIN, MAX, 1, VOICE, 2);
+        Due.is("before it is revoked", gate.valid(2), true);
+        gate.revoke(1, 2);
+        Due.is("when it is revoked", gate.valid(2), false);
+    }
+
+    @Sentence(of = "Promise 17", words = "false when there is none.")
+    static void validOfNone() {
+        ProofGate gate = new ProofGate(5);
+        Due.is("of none", gate.valid(1), false);
+        giveMany(gate, 2);
+        for (int number : new int[] {MIN, -1, 0, 3, 24, 25, MAX}) {
             Due.is("no credential " + number, gate.valid(number), false);
         }
+        giveMany(gate, 22);
+        Due.is("the 24th", gate.valid(24), true);
+        Due.is("no 25th", gate.valid(25), false);
     }
 
-    private static void validMatters() {
+    @Sentence(of = "Promise 18", words = "How many grants the audit log has.")
+    static void countsGrants() {
         ProofGate gate = new ProofGate(5);
-        giveFor(gate, 1, 1, 0, GRANT, 3, CREATE, 0);
-        giveFor(gate, 2, 2, 0, VOICE, 1);
-        giveFor(gate, 2, 3, 1, GRANT, 3, CREATE, 0);
-        giveFor(gate, 3, 3, 0, TRUST, 1, CREATE, 0, 0);
-        giveFor(gate, 4, 4, 0, IMPLY, READ, CREATE);
-        giveFor(gate, 4, 5, 0, GRANT, 3, READ, 0);
-        String[] due = {"", "1:1,0", "1:2,0 1:3,0 2:0,1", "1:4,0 1:3,0 3:0,1", "1:6,0 7:5,0", ""};
-        for (int time = 0; time < due.length; time++) {
-            gate.clear();
-            int length = due[time].isEmpty() ? -2 : due[time].split(" ").length;
-            Due.is("prove at " + time, gate.prove(3, CREATE, 0), length);
-            Due.is("proof at " + time, draft(gate), due[time]);
-            gate.pass(1);
+        Due.is("at first", gate.grants(), 0);
+        give(gate, ROOT, GRANT, 2, CREATE, 1);
+        Due.is("a credential is no grant", gate.grants(), 0);
+        gate.request(2, CREATE, 1, 1, false);
+        Due.is("the first", gate.grants(), 1);
+        Due.throwing("not granted", UOE, () -> gate.request(2, READ, 1, 1, false));
+        give(gate, 2, GRANT, 2, READ, 1);
+        gate.revoke(ROOT, 1);
+        gate.prove(2, READ, 1);
+        gate.check(2, READ, 1);
+        Due.is("nothing else counts", gate.grants(), 1);
+        for (int i = 2; i <= 60; i++) {
+            gate.request(2, READ, 1, 1, false);
+            Due.is("grants", gate.grants(), i);
         }
+        gate.fuse(0);
+        Due.throwing("crash", ISE, () -> gate.request(2, READ, 1, 1, false));
+        Due.is("a crash is no grant", gate.grants(), 60);
     }
 
-    public static void main(String[] args) {
-        newObject();
-        newObjectSetNumbers();
-        seal();
-        submit();
-        submitRanges();
-        submitWhenFull();
-        submitFullKeepsFuse();
-        submitCrash();
-        set();
-        revoke();
-        revokeCrash();
-        pass();
-        step();
-        proveNames();
-        proveByOwner();
-        proveByNoOther();
-        proveByEachRule();
-        proveByLinks();
-        proveDepth();
-        proveLeastWay();
-        proveLeastDeepWay();
-        proveDepthsOfLinks();
-        proveEarliestRound();
-        proveSharesSteps();
-        proveLongWays();
-        checkNeedsEachStep();
-        checkRevoked();
-        checkOneRule();
-        checkLinkRules();
-        checkLooksBackOnly();
-        checkImplyOnly();
-        checkDepthByVoice();
-        checkOfOwner();
-        requestEffects();
-        requestOwnTo();
-        requestRefusals();
-        requestGiven();
-        requestCrash();
-        fuse();
-        owner();
-        valid();
-        validMatters();
-        Due.finish();
+    @Sentence(of = "Promise 19", words = "The chain of the audit log.")
+    static void chains() {
+        ProofGate gate = new ProofGate(5);
+        Due.is("at first", gate.chain(), 0);
+        give(gate, ROOT, GRANT, 2, CREATE, 1);
+        Due.is("a credential is not in it", gate.chain(), 0);
+        gate.request(2, CREATE, 1, 77, false);
+        Due.is("the first grant", gate.chain(), 2698);
+        Due.throwing("not granted", UOE, () -> gate.request(2, READ, 1, 1, false));
+        gate.revoke(ROOT, 1);
+        give(gate, 2, GRANT, 2, READ, 1);
+        gate.fuse(0);
+        Due.throwing("crash", ISE, () -> gate.request(2, READ, 1, 1, false));
+        Due.is("nothing else is in it", gate.chain(), 2698);
+        gate.request(2, READ, 1, 1, false);
+        Due.is("the second grant", gate.chain(), link(2698, 2, READ, 1, 1));
     }
 }
