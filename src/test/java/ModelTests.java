@@ -407,7 +407,8 @@ public final class ModelTests {
             new ModelTests(seed).runLong();
         }
         System.out.println(proofs + " proofs, " + longProofs + " of them of ten steps or more, the longest of " + longest
-                + ", " + tooLong + " too long, " + checked + " checked, " + granted + " grants, " + crashed + " crashes in a request");
+                + ", " + tooLong + " too long, " + checked + " checked, " + granted + " grants, " + crashed
+                + " crashes in a request");
         // Runs in which little is proved would test little.
         boolean enough = proofs > 5 * runs && longProofs > runs && tooLong > 0 && granted > runs && crashed > 0;
         Due.is("runs prove enough", enough || runs < RUNS, true);

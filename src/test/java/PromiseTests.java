@@ -466,7 +466,8 @@ public final class PromiseTests extends Gates {
         }
     }
 
-    @Sentence(of = "Promise 11", words = "The prover's proof of the goal of p for right r with object o becomes the draft: how many steps it has.")
+    @Sentence(of = "Promise 11", words = "The prover's proof of the goal of p for right r with object o becomes the "
+            + "draft: how many steps it has.")
     static void proofBecomesDraft() {
         ProofGate gate = withReadable();
         give(gate, 2, VOICE, 3);
@@ -758,7 +759,8 @@ public final class PromiseTests extends Gates {
         Due.is("no grants", gate.grants(), 1);
     }
 
-    @Sentence(of = "Promise 13", words = "NoSuchElementException when the object is not there (with CREATE: when it is)")
+    @Sentence(of = "Promise 13", words = "NoSuchElementException when the object is not there (with CREATE: when it "
+            + "is)")
     static void requestOfObjectNotThere() {
         ProofGate gate = withReadable();
         for (boolean given : GIVEN_OR_NOT) {

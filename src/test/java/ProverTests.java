@@ -45,7 +45,8 @@ public final class ProverTests extends Gates {
         Due.is("rule 2, in round 3", proofFor(gate, 5), "1:1,0 1:2,0 1:3,0 2:1,2 2:0,3");
     }
 
-    @Sentence(of = "The prover", words = "in each all those are found that were not yet, and that a rule gives from facts of earlier rounds.")
+    @Sentence(of = "The prover", words = "in each all those are found that were not yet, and that a rule gives from "
+            + "facts of earlier rounds.")
     static void factsOfEarlierRounds() {
         ProofGate gate = new ProofGate(5);
         give(gate, 0, VOICE, 3);
@@ -76,7 +77,8 @@ public final class ProverTests extends Gates {
                 proofFor(gate, 5), "1:1,0 1:2,0 1:4,0 7:3,2 3:1,3 3:0,4");
     }
 
-    @Sentence(of = "The prover", words = "The REASON of a fact is the rule of the least number that gives it so in that round")
+    @Sentence(of = "The prover", words = "The REASON of a fact is the rule of the least number that gives it so in "
+            + "that round")
     static void leastRule() {
         ProofGate gate = new ProofGate(5);
         giveLate(gate, 0);
@@ -240,7 +242,8 @@ public final class ProverTests extends Gates {
                 "1:6,0 1:5,0 1:4,0 5:1,2 4:0,3 1:1,0 7:2,5 7:3,6 3:4,7");
     }
 
-    @Sentence(of = "The prover", words = "but for steps that are there, then that of the second one, likewise, then the step with its reason.")
+    @Sentence(of = "The prover", words = "but for steps that are there, then that of the second one, likewise, then "
+            + "the step with its reason.")
     static void stepsThatAreThere() {
         ProofGate gate = new ProofGate(5);
         give(gate, 0, VOICE, 1);

@@ -136,7 +136,8 @@ public final class RecordsTests extends Gates {
         }
     }
 
-    @Sentence(of = "The chain", words = "with each grant it becomes ((chain ^ p) * 31 + 8 * r + o) * 31 + the number of the proof's steps.")
+    @Sentence(of = "The chain", words = "with each grant it becomes ((chain ^ p) * 31 + 8 * r + o) * 31 + the "
+            + "number of the proof's steps.")
     static void chainOfGrants() {
         ProofGate gate = new ProofGate(5);
         int chain = 0;

@@ -153,18 +153,10 @@ public final class TermsTests extends Gates {
 
     @Sentence(of = "Terms", words = "kind 0 GRANT (x, r, o): MAY(i, x, r, o).")
     static void saidByGrant() {
+        provesOnly((gate, r, o) -> give(gate, 2, GRANT, 4, r, o), 1, 2, 0);
         ProofGate gate = withObject(2, 1, 77);
-        give(gate, 2, GRANT, 3, WRITE, 1);
-        steps(gate, 1, 2, 0);
-        for (int p = 0; p <= 5; p++) {
-            for (int r = READ; r <= CREATE; r++) {
-                for (int o = 0; o <= 5; o++) {
-                    Due.is("goal " + p + " " + r + " " + o, gate.check(p, r, o), p == 3 && r == WRITE && o == 1);
-                }
-            }
-        }
         give(gate, 4, GRANT, 3, WRITE, 1);
-        steps(gate, 1, 3, 0);
+        steps(gate, 1, 2, 0);
         Due.is("said by one who is not the owner", gate.check(3, WRITE, 1), false);
     }
 
@@ -261,15 +253,34 @@ public final class TermsTests extends Gates {
         }
     }
 
-    /** Whether the step has the fact that, by another step with it, lets 5 CREATE object 0. */
-    private static void leadsToGoal(int rule, int x, int y, int nextRule, int nextY) {
-        ProofGate gate = withFacts();
-        sayAll(gate, 1, FACTS);
-        gate.step(rule, x, y);
-        if (nextRule > 0) {
-            gate.step(nextRule, FACTS, nextY);
+    private interface Giver {
+        void give(ProofGate gate, int r, int o);
+    }
+
+    /**
+     * With what is given, each right and object in turn, the steps prove that 4 may do the right with
+     * the object, and nothing else. The owner is 2, whose credential 1 is not needed.
+     */
+    private static void provesOnly(Giver giver, int... draft) {
+        for (int o = 0; o <= 5; o++) {
+            for (int r = READ; r <= OWN; r++) {
+                ProofGate gate = withObject(2, o, 77);
+                giver.give(gate, r, o);
+                steps(gate, draft);
+                isProofOnlyOf(gate, r, o);
+            }
         }
-        Due.is("the fact by rule " + rule, gate.check(5, CREATE, 0), true);
+    }
+
+    private static void isProofOnlyOf(ProofGate gate, int right, int object) {
+        for (int p = 0; p <= 5; p++) {
+            for (int r = READ; r <= CREATE; r++) {
+                for (int o = 0; o <= 5; o++) {
+                    boolean due = p == 4 && r == right && o == object;
+                    Due.is("goal of " + p + " for " + r + " with " + o, gate.check(p, r, o), due);
+                }
+            }
+        }
     }
 
     @Sentence(of = "Rules", words = "1: what a valid credential of kind 0, 1 or 2 says.")
@@ -295,31 +306,50 @@ public final class TermsTests extends Gates {
     @Sentence(of = "Rules", words = "2: SPEAKS(b, a) and MAY(b, x, r, o) give MAY(a, x, r, o).")
     static void rule2() {
         takesOnly(2, new int[][] {{0, 9}, {0, 10}, {0, 11}, {1, 8}});
-        leadsToGoal(2, 0, 9, 0, 0);
+        provesOnly((gate, r, o) -> {
+            give(gate, 2, VOICE, 3);
+            give(gate, 3, GRANT, 4, r, o);
+        }, 1, 2, 0, 1, 3, 0, 2, 0, 1);
     }
 
     @Sentence(of = "Rules", words = "3: TRUSTS(a, b, r, o, d) and MAY(b, x, r, o) give MAY(a, x, r, o).")
     static void rule3() {
         takesOnly(3, new int[][] {{2, 9}, {3, 9}, {4, 8}, {7, 8}});
-        leadsToGoal(3, 3, 9, 0, 0);
+        provesOnly((gate, r, o) -> {
+            give(gate, 2, TRUST, 3, r, o, 0);
+            give(gate, 3, GRANT, 4, r, o);
+        }, 1, 2, 0, 1, 3, 0, 3, 0, 1);
     }
 
-    @Sentence(of = "Rules", words = "4: TRUSTS(a, b, r, o, d), d above 0, and TRUSTS(b, c, r, o, e) give TRUSTS(a, c, r, o, m)")
+    @Sentence(of = "Rules", words = "4: TRUSTS(a, b, r, o, d), d above 0, and TRUSTS(b, c, r, o, e) give "
+            + "TRUSTS(a, c, r, o, m)")
     static void rule4() {
         takesOnly(4, new int[][] {{2, 4}});
-        leadsToGoal(4, 2, 4, 3, 8);
+        provesOnly((gate, r, o) -> {
+            give(gate, 2, TRUST, 3, r, o, 1);
+            give(gate, 3, TRUST, 5, r, o, 0);
+            give(gate, 5, GRANT, 4, r, o);
+        }, 1, 2, 0, 1, 3, 0, 4, 0, 1, 1, 4, 0, 3, 2, 3);
     }
 
     @Sentence(of = "Rules", words = "5: SPEAKS(b, a) and TRUSTS(b, c, r, o, d) give TRUSTS(a, c, r, o, d).")
     static void rule5() {
         takesOnly(5, new int[][] {{0, 4}, {0, 5}, {0, 6}});
-        leadsToGoal(5, 0, 4, 3, 8);
+        provesOnly((gate, r, o) -> {
+            give(gate, 2, VOICE, 3);
+            give(gate, 3, TRUST, 5, r, o, 0);
+            give(gate, 5, GRANT, 4, r, o);
+        }, 1, 2, 0, 1, 3, 0, 5, 0, 1, 1, 4, 0, 3, 2, 3);
     }
 
     @Sentence(of = "Rules", words = "6: SPEAKS(c, b) and SPEAKS(b, a) give SPEAKS(c, a).")
     static void rule6() {
         takesOnly(6, new int[][] {{1, 0}});
-        leadsToGoal(6, 1, 0, 2, 8);
+        provesOnly((gate, r, o) -> {
+            give(gate, 2, VOICE, 3);
+            give(gate, 3, VOICE, 5);
+            give(gate, 5, GRANT, 4, r, o);
+        }, 1, 3, 0, 1, 2, 0, 6, 0, 1, 1, 4, 0, 2, 2, 3);
     }
 
     @Sentence(of = "Rules", words = "7: a valid credential IMPLY (r, s) of a and MAY(a, x, r, o) give MAY(a, x, s, o).")
@@ -330,7 +360,10 @@ public final class TermsTests extends Gates {
                 Due.is("rule 7 with " + number + ", " + y, stands(7, number, y), due);
             }
         }
-        leadsToGoal(7, IMPLIES, 12, 0, 0);
+        provesOnly((gate, r, o) -> {
+            give(gate, 2, IMPLY, (r + 1) % 4, r);
+            give(gate, 2, GRANT, 4, (r + 1) % 4, o);
+        }, 1, 3, 0, 7, 2, 0);
     }
 
     @Sentence(of = "Rules", words = "7: a valid credential IMPLY (r, s)")
@@ -487,33 +520,21 @@ public final class TermsTests extends Gates {
                 {1, t[1], 0, 1, t[2], 0, t[0], 0, MIN}, {1, t[1], 0, 1, t[2], 0, t[0], MIN, 1},
                 {1, t[1], 0, 1, t[2], 0, t[0], 0, 40}, {1, t[1], 0, 1, t[2], 0, t[0], 40, 1}};
             for (int[] draft : drafts) {
-                ProofGate gate = withFacts();
-                // Right proofs first, either way round: nothing of them may be left for a wrong one.
-                steps(gate, 1, t[1], 0, 1, t[2], 0, t[0], 0, 1, 1, ENDS_WELL, 0);
-                Due.is("earlier steps, rule " + t[0], gate.check(4, CREATE, 0), true);
-                steps(gate, 1, t[2], 0, 1, t[1], 0, t[0], 1, 0, 1, ENDS_WELL, 0);
-                Due.is("earlier steps, rule " + t[0], gate.check(4, CREATE, 0), true);
-                steps(gate, draft);
-                gate.step(1, ENDS_WELL, 0);
-                Due.is("draft " + Arrays.toString(draft), gate.check(4, CREATE, 0), false);
+                isNoProofAfter(draft, 1, t[1], 0, 1, t[2], 0, t[0], 0, 1);
+                isNoProofAfter(draft, 1, t[2], 0, 1, t[1], 0, t[0], 1, 0);
             }
         }
     }
 
-    @Sentence(of = "A proof", words = "x and y are earlier steps")
-    static void noStepStandsOnItself() {
-        ProofGate gate = new ProofGate(5);
-        give(gate, 0, VOICE, 1);
-        give(gate, 1, GRANT, 3, CREATE, 0);
-        int[][] drafts = {{1, 2, 0, 1, 1, 0}, {1, 2, 0, 2, 1, 0}, {1, 1, 0, 1, 2, 0}, {1, 1, 0, 2, 0, 1},
-            {1, 2, 0, 1, 2, 0, 1, 1, 0}, {1, 2, 0, 2, 2, 0}, {2, 1, 2, 1, 1, 0, 1, 2, 0},
-            {1, 2, 0, 2, 1, 0, 1, 1, 0, 2, 2, 0}, {1, 1, 0, 2, 0, 1, 1, 2, 0, 2, 0, 2}};
-        for (int[] draft : drafts) {
-            steps(gate, draft);
-            Due.is("draft " + Arrays.toString(draft), gate.check(3, CREATE, 0), false);
-        }
-        steps(gate, 1, 2, 0, 1, 1, 0, 2, 1, 0);
-        Due.is("earlier steps", gate.check(3, CREATE, 0), true);
+    /** A right proof is checked first: nothing of it may be left for the wrong one. */
+    private static void isNoProofAfter(int[] wrong, int... right) {
+        ProofGate gate = withFacts();
+        steps(gate, right);
+        gate.step(1, ENDS_WELL, 0);
+        Due.is("draft " + Arrays.toString(right), gate.check(4, CREATE, 0), true);
+        steps(gate, wrong);
+        gate.step(1, ENDS_WELL, 0);
+        Due.is("draft " + Arrays.toString(wrong), gate.check(4, CREATE, 0), false);
     }
 
     @Sentence(of = "A proof", words = "the facts of which are those that the rule takes, in the order above")
@@ -529,16 +550,11 @@ public final class TermsTests extends Gates {
 
     @Sentence(of = "A proof", words = "with 7 x is a credential and y an earlier step.")
     static void rule7NeedsEarlierStep() {
-        ProofGate gate = withFacts();
         int[][] drafts = {{1, 13, 0, 7, 15, 1}, {7, 15, 0, 1, 13, 0}, {7, 15, 1, 1, 13, 0}, {1, 13, 0, 7, 15, -1},
             {1, 13, 0, 7, 15, 2}, {1, 13, 0, 7, 15, MAX}, {1, 13, 0, 7, 15, MIN}, {1, 13, 0, 7, 0, 0},
             {1, 13, 0, 7, -1, 0}, {1, 13, 0, 7, 17, 0}, {1, 13, 0, 7, MAX, 0}, {1, 13, 0, 7, MIN, 0}};
         for (int[] draft : drafts) {
-            steps(gate, 1, 1, 0, 1, 13, 0, 7, 15, 1);
-            Due.is("an earlier step", gate.check(5, CREATE, 0), true);
-            steps(gate, draft);
-            gate.step(1, ENDS_WELL, 0);
-            Due.is("draft " + Arrays.toString(draft), gate.check(4, CREATE, 0), false);
+            isNoProofAfter(draft, 1, 13, 0, 1, 13, 0, 7, 15, 1);
         }
     }
 
